@@ -1,0 +1,197 @@
+import java.lang.reflect.InvocationTargetException;
+import java.lang.reflect.Method;
+import java.util.ArrayList;
+import java.util.Arrays;
+import java.util.Comparator;
+import java.util.List;
+
+/** Long runs of calls, on the program and on the model, whose answers and states are compared. */
+public final class ModelTest {
+  private static final int RUNS = 260;
+  private static final int CALLS = 512;
+  private static final int[][] POOLS = {
+    {2, 3, 5, 7, 11, 13},
+    {2, 3, 4, 5, 6, 7, 8, 9, 10, 11, 12, 13, 25, 49},
+    {97, 89, 83, 79, 73, 71, 67, 64, 81, 25, 49},
+    {9999, 9998, 9997, 9973, 9967, 9949, 9941, 9931, 9929, 9923, 9907, 9901, 9887},
+    {2, 9999, 3, 9973, 5, 101, 64, 7, 9967, 11, 13, 9901, 17, 9887},
+    {2, 3, 5, 7, 9, 1, 0, -3, 10000, 9999, Integer.MIN_VALUE, Integer.MAX_VALUE},
+  };
+  private static final long[] LONGS = {
+    0, 1, -1, 2, -2, 3, 5, 7, 104, 105, Long.MAX_VALUE, Long.MIN_VALUE, Long.MIN_VALUE + 1,
+    Integer.MAX_VALUE, Integer.MIN_VALUE, 999999999, 1000000000, 1000000000000000000L
+  };
+  private static final int[] INTS = {
+    0, 1, -1, 2, 9, 10, 11, 12, 13, Integer.MAX_VALUE, Integer.MIN_VALUE, Integer.MAX_VALUE - 7
+  };
+
+  private final Check check = new Check("ModelTest");
+  private final List<Method> methods = new ArrayList<>();
+  private final int[] answered = new int[100];
+  private long seed;
+  private int[] pool;
+
+  public static void main(String[] args) throws Exception {
+    new ModelTest().runAll();
+  }
+
+  private void runAll() throws Exception {
+    for (Method method : RemainderYard.class.getDeclaredMethods()) {
+      if (java.lang.reflect.Modifier.isPublic(method.getModifiers())) {
+        methods.add(method);
+      }
+    }
+    methods.sort(Comparator.comparing(Method::getName));
+    check.same("how many methods", methods.size(), 46);
+    for (int run = 0; run < RUNS; run++) {
+      seed = 7919L * run + 17;
+      pool = POOLS[run % POOLS.length];
+      runOne(run);
+    }
+    for (int i = 0; i < methods.size(); i++) {
+      check.same(methods.get(i).getName() + " has answered often", answered[i] > 100, true);
+    }
+    check.end();
+  }
+
+  private int draw(int below) {
+    seed = seed * 6364136223846793005L + 1442695040888963407L;
+    return (int) ((seed >>> 33) % below);
+  }
+
+  private void runOne(int run) throws Exception {
+    RemainderYard yard = new RemainderYard();
+    ModelYard model = new ModelYard();
+    int dialsAtFirst = draw(11);
+    for (int call = 0; call < CALLS; call++) {
+      int which = draw(methods.size());
+      Method method = methods.get(which);
+      if (call < 2 * dialsAtFirst) {
+        method = RemainderYard.class.getMethod("addDial", int.class);
+      } else if (method.getName().matches("dropDial|erase|forget") && draw(4) != 0) {
+        continue;
+      } else if (draw(12) == 0) {
+        typeNumber(yard, model);
+      }
+      Object[] args = argumentsOf(method, model);
+      Object got = outcome(method, yard, args);
+      Method same = ModelYard.class.getMethod(method.getName(), method.getParameterTypes());
+      Object due = outcome(same, model, args);
+      if (!(due instanceof Class)) {
+        answered[which]++;
+      }
+      String what = "run " + run + ", call " + call + ", " + method.getName() + Arrays.toString(args);
+      check.same(what, got, due);
+      check.same(what + ", checksum", yard.checksum(), model.checksum());
+      if (!got.equals(due) || yard.checksum() != model.checksum()) {
+        return;
+      }
+    }
+    check.same("run " + run + ", text", Check.textOf(yard), model.text());
+    check.same("run " + run + ", sound", yard.isSound(), true);
+    undoAll(run, yard, model);
+  }
+
+  private void undoAll(int run, RemainderYard yard, ModelYard model) throws Exception {
+    Method undo = RemainderYard.class.getMethod("undo");
+    Method same = ModelYard.class.getMethod("undo");
+    for (int i = 0; i < 14; i++) {
+      Object got = outcome(undo, yard, new Object[0]);
+      Object due = outcome(same, model, new Object[0]);
+      check.same("run " + run + ", undo " + i, got, due);
+      check.same("run " + run + ", state behind it", yard.checksum(), model.checksum());
+    }
+  }
+
+  private void typeNumber(RemainderYard yard, ModelYard model) {
+    yard.erase();
+    model.erase();
+    String lead = new String[] {"", "", "+", "-", "00", "-0", " ", "+-"}[draw(8)];
+    int digits = new int[] {0, 1, 2, 3, 6, 12, 24, 38, 76}[draw(9)];
+    StringBuilder text = new StringBuilder(lead);
+    for (int i = 0; i < digits; i++) {
+      text.append((char) ('0' + draw(10)));
+    }
+    for (int i = 0; i < text.length(); i++) {
+      yard.type(text.charAt(i));
+      model.type(text.charAt(i));
+    }
+  }
+
+  private static Object outcome(Method method, Object on, Object[] args) throws Exception {
+    try {
+      return method.invoke(on, args);
+    } catch (InvocationTargetException e) {
+      return e.getCause().getClass();
+    }
+  }
+
+  private Object[] argumentsOf(Method method, ModelYard model) {
+    String name = method.getName();
+    Class<?>[] types = method.getParameterTypes();
+    Object[] args = new Object[types.length];
+    for (int i = 0; i < args.length; i++) {
+      if (types[i] == char.class) {
+        args[i] = signFor(name);
+      } else if (types[i] == long.class) {
+        args[i] = draw(3) == 0 ? LONGS[draw(LONGS.length)] : (long) draw(20000) - 5000;
+      } else {
+        args[i] = draw(40) == 0 ? INTS[draw(INTS.length)] : usual(name, i, model.dials());
+      }
+    }
+    return args;
+  }
+
+  private char signFor(String name) {
+    if (name.equals("isOver")) {
+      return "++++****-/".charAt(draw(10));
+    }
+    return draw(8) == 0 ? (char) (draw(4) == 0 ? draw(65536) : draw(140)) : (char) ('0' + draw(10));
+  }
+
+  private int usual(String name, int i, int dials) {
+    switch (name) {
+      case "addDial":
+        return pool[draw(pool.length)];
+      case "clash":
+        return draw(2) == 0 ? draw(10001) : pool[draw(pool.length)];
+      case "setSpare":
+        return draw(dials + 2) - draw(2);
+      case "dropDial":
+      case "dialAt":
+        return draw(dials + 1);
+      case "signAt":
+        return draw(60);
+      case "open":
+        return draw(dials + 2);
+      case "meet":
+        return i == 0 ? draw(200) - 50 : draw(2) == 0 ? 1 + draw(30) : 1 + draw(9999);
+      default:
+        return usualOfRows(name, i, dials);
+    }
+  }
+
+  private int usualOfRows(String name, int i, int dials) {
+    boolean isIndex = i == 1 && (name.equals("wheel") || name.equals("turn") || name.equals("digit"))
+        || i == 2 && name.equals("divideBy");
+    if (isIndex) {
+      return draw(20) == 0 ? dials : draw(Math.max(dials, 1));
+    }
+    if (name.equals("turn") && i == 2) {
+      return draw(3) == 0 ? draw(10000) : draw(8);
+    }
+    if (name.equals("power") && i == 2) {
+      return draw(40) - 15;
+    }
+    if (name.equals("told") && i == 1) {
+      return draw(30) == 0 ? 1 << dials : draw(1 << dials);
+    }
+    if (name.equals("polynomial")) {
+      return i == 1 ? draw(8) : i == 2 ? draw(8) : draw(12);
+    }
+    if ((name.equals("determinant") && i == 1) || name.equals("isEnough")) {
+      return draw(5);
+    }
+    return draw(12);
+  }
+}
