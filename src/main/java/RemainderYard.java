@@ -13,6 +13,8 @@ public final class RemainderYard {
   private static final int GREATEST_DIAL = 9999;
   private static final int GRID_ROWS = 9;
   private static final int ENOUGH_FACTOR = 12;
+  private static final long SUM_START = 7;
+  private static final long SUM_FACTOR = 31;
   private static final int MOST_COEFFICIENTS = 6;
 
   private static final int IS_TRUE = -1;
@@ -69,7 +71,6 @@ public final class RemainderYard {
       for (int i = index; i < last; i++) {
         rows[row][i] = rows[row][i + 1];
       }
-      rows[row][last] = 0;
     }
     int dial = dialList.at(index);
     dialList.removeAt(index);
@@ -196,13 +197,11 @@ public final class RemainderYard {
   }
 
   public int undo() throws NoSuchElementException {
-    if (keeper.isEmpty()) {
+    int row = keeper.latestRow();
+    if (row < 0 || row >= ROWS) {
       throw new NoSuchElementException("no call is kept");
     }
-    int row = keeper.latestRow();
-    if (row >= 0 && row < ROWS) {
-      keeper.giveBack(rows[row]);
-    }
+    keeper.giveBack(rows[row]);
     return row;
   }
 
@@ -493,21 +492,21 @@ public final class RemainderYard {
   // ---- figures
 
   public long checksum() {
-    long sum = 31L * 7 + dialList.spare();
+    long sum = SUM_FACTOR * SUM_START + dialList.spare();
     for (int i = 0; i < dialList.size(); i++) {
-      sum = 31 * sum + dialList.at(i);
+      sum = SUM_FACTOR * sum + dialList.at(i);
     }
     for (int row = 0; row < ROWS; row++) {
       for (int i = 0; i < dialList.size(); i++) {
-        sum = 31 * sum + rows[row][i];
+        sum = SUM_FACTOR * sum + rows[row][i];
       }
     }
     for (int i = 0; i < conditions.size(); i++) {
-      sum = 31 * sum + conditions.dialOf(i);
-      sum = 31 * sum + conditions.remainderOf(i);
+      sum = SUM_FACTOR * sum + conditions.dialOf(i);
+      sum = SUM_FACTOR * sum + conditions.remainderOf(i);
     }
     for (int i = 0; i < text.length(); i++) {
-      sum = 31 * sum + text.at(i);
+      sum = SUM_FACTOR * sum + text.at(i);
     }
     return sum;
   }
@@ -1123,10 +1122,6 @@ public final class RemainderYard {
     private int first;
     private int count;
 
-    boolean isEmpty() {
-      return count == 0;
-    }
-
     void dropAll() {
       count = 0;
     }
@@ -1144,6 +1139,7 @@ public final class RemainderYard {
       }
     }
 
+    /** Answers -1 if no call is kept. */
     int latestRow() {
       return count == 0 ? -1 : keptRows[(first + count - 1) % MOST_KEPT];
     }

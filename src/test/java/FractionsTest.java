@@ -121,10 +121,17 @@ public final class FractionsTest {
     RemainderYard two = Check.yard(2);
     check.same("38: 0 by 2", Check.outcome(two, x -> x.fraction(0)), NONE);
     check.same("38: 0 without dials", Check.outcome(new RemainderYard(), x -> x.fraction(0)), NONE);
-    // 13 by 35 is 3/5 but for the divisor 5 of both, 5 * 13 is 65, that is -5 by 35
-    RemainderYard divisor = Check.yard(5, 7);
-    divisor.set(0, 15);
-    check.same("38: a common divisor with a dial", Check.outcome(divisor, x -> x.fraction(0)), NONE);
+    // 2 * 104 is 6 by 202, but 104 is not 3; and 3 * 103 is 6 by 303, but 103 is not 2
+    check.refuses("38: a divisor of the first dial", () -> {
+      RemainderYard divisor = Check.yard(2, 101);
+      divisor.set(0, 104);
+      return divisor;
+    }, x -> x.fraction(0), NONE);
+    check.refuses("38: a divisor of the last dial", () -> {
+      RemainderYard divisor = Check.yard(101, 3);
+      divisor.set(0, 103);
+      return divisor;
+    }, x -> x.fraction(0), NONE);
   }
 
   private static RemainderYard sevenBy(int... dials) {

@@ -22,6 +22,7 @@ public final class SumsTest {
     determinantGreat();
     polynomial();
     withoutDials();
+    tenDials();
     check.end();
   }
 
@@ -318,5 +319,36 @@ public final class SumsTest {
       check.same("19: each is kept", yard.undo(), 0);
     }
     check.same("19: but no more", Check.outcome(yard, x -> x.undo()), NONE);
+  }
+
+  private static void tenDials() {
+    RemainderYard yard = Check.yard(9999, 9998, 9997, 9995, 9991, 9989, 9973, 9967, 9949, 9941);
+    yard.set(0, 1000003);
+    yard.set(1, 2000003);
+    check.same("20: ten dials", yard.add(2, 0, 1), 0);
+    check.numberIs("20: ten dials", yard, 2, "3000006");
+    check.same("21: ten dials", yard.subtract(2, 1, 0), 0);
+    check.numberIs("21: ten dials", yard, 2, "1000000");
+    check.same("22: ten dials", yard.multiply(2, 0, 1), 0);
+    check.numberIs("22: ten dials", yard, 2, "2000009000009");
+    check.same("23: ten dials", yard.power(2, 0, 3), 0);
+    check.numberIs("23: ten dials", yard, 2, "1000009000027000027");
+    check.same("25: ten dials", yard.divide(3, 2, 0), 0);
+    check.numberIs("25: ten dials", yard, 3, "1000006000009");
+    check.same("24: ten dials", yard.inverse(4, 2), 0);
+    check.same("22: ten dials", yard.multiply(4, 4, 2), 0);
+    check.numberIs("24: ten dials", yard, 4, "1");
+    check.same("26: ten dials", yard.divideBy(5, 1, 9), 2000003 % 9941);
+    check.numberIs("26: ten dials", yard, 5, Integer.toString(2000003 / 9941));
+    yard.set(4, 1);
+    yard.set(5, 0);
+    yard.set(8, 7);
+    // the lines are 1000003 2000003 row 2, 0 1 0, 0 row 7 7, and row 7 is 0
+    yard.set(3, 0);
+    yard.set(6, 0);
+    check.same("27: ten dials", yard.determinant(11, 0), 0);
+    check.numberIs("27: ten dials", yard, 11, "7000021");
+    check.same("28: ten dials", yard.polynomial(11, 0, 2, 1), 0);
+    check.numberIs("28: ten dials", yard, 11, "4000013000012");
   }
 }
