@@ -15,6 +15,7 @@ public final class RowsTest {
     read();
     readGreat();
     readRefuses();
+    readAfterRefusal();
     tell();
     tellSigned();
     wheel();
@@ -127,25 +128,73 @@ public final class RowsTest {
   }
 
   private static void readRefuses() {
-    String[] wrong = {"", "+", "-", "--1", "+-1", " 1", "1 ", "1.0", "12a", "1/2", "1-", "/", ":", "0x1"};
+    String[] wrong = {"", "+", "-", " ", "x", "--1", "+-1", "-+", " 1", "1 ", "1 2", "- 1", "1.0",
+      "12a", "a12", "1e5", "1/2", "1-", "1+", "1-2", "12+34", "/", ":", "0x1", "~", "9".repeat(79) + "-",
+      "-" + "9".repeat(78) + " "};
     for (String text : wrong) {
-      Check.Maker maker = () -> {
-        RemainderYard yard = busy();
-        yard.erase();
-        Check.type(yard, text);
-        return yard;
-      };
-      check.refuses("13: read '" + text + "'", maker, x -> x.read(0), NO_NUMBER);
-      check.refuses("13: no row, '" + text + "'", maker, x -> x.read(12), ROW);
+      Check.Maker bare = () -> typed(new RemainderYard(), text);
+      Check.Maker maker = () -> typed(crowded(), text);
+      check.refuses("13: read '" + text + "', a new yard", bare, x -> x.read(0), NO_NUMBER);
+      for (int row = 0; row < 12; row++) {
+        int asked = row;
+        check.refuses("13: read '" + text + "', " + row, maker, x -> x.read(asked), NO_NUMBER);
+      }
+      for (int row : NO_ROWS) {
+        check.refuses("13: no row " + row + ", '" + text + "'", maker, x -> x.read(row), ROW);
+      }
     }
     for (int row : NO_ROWS) {
-      check.refuses("13: read " + row, () -> {
-        RemainderYard yard = busy();
-        yard.erase();
-        Check.type(yard, "1");
-        return yard;
-      }, x -> x.read(row), ROW);
+      check.refuses("13: read " + row, () -> typed(busy(), "1"), x -> x.read(row), ROW);
     }
+  }
+
+  private static RemainderYard typed(RemainderYard yard, String text) {
+    yard.erase();
+    Check.type(yard, text);
+    return yard;
+  }
+
+  /** A yard that has something of all that there is: rows kept, spare dials, conditions. */
+  private static RemainderYard crowded() {
+    RemainderYard yard = Check.yard(3, 5, 7, 11, 13);
+    yard.setSpare(2);
+    for (int row = 0; row < 12; row++) {
+      yard.set(row, 1000 - 77L * row);
+    }
+    yard.turn(4, 3, 9);
+    yard.meet(5, 12);
+    yard.meet(-1, 9);
+    return yard;
+  }
+
+  /** A text that was refused is still there, so that a sign behind it can make a number of it. */
+  private static void readAfterRefusal() {
+    String[] begun = {"", "+", "-", "0x"};
+    Object[] due = {true, true, false, NO_NUMBER};
+    int[] places = {2, 2, 1, 0};
+    for (int i = 0; i < begun.length; i++) {
+      String what = "13: '" + begun[i] + "' and a 5";
+      RemainderYard yard = typed(Check.yard(3), begun[i]);
+      for (int many = 0; many < 20; many++) {
+        check.same(what + ", refused", Check.outcome(yard, x -> x.read(1)), NO_NUMBER);
+      }
+      check.textIs(what + ", refused", yard, begun[i]);
+      check.same(what + ", none is kept", Check.outcome(yard, x -> x.undo()), NONE);
+      yard.type('5');
+      // 5 is not below 3, so that a second dial must make room for it
+      yard.addDial(7);
+      check.same(what, Check.outcome(yard, x -> x.read(1)), due[i]);
+      check.same(what + ", its wheel", yard.wheel(1, 0), places[i]);
+    }
+    RemainderYard yard = typed(Check.yard(3, 5, 7), "12x");
+    yard.set(0, 23);
+    yard.set(0, 24);
+    check.same("13: 12x", Check.outcome(yard, x -> x.read(0)), NO_NUMBER);
+    check.numberIs("13: 12x changes no row", yard, 0, "24");
+    check.same("13: 12x is not kept", yard.undo(), 0);
+    check.numberIs("13: 12x is not kept", yard, 0, "23");
+    check.same("13: 12x stays", yard.erase(), 3);
+    check.same("13: it is empty then", Check.outcome(yard, x -> x.read(0)), NO_NUMBER);
   }
 
   private static void tell() {
