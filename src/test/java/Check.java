@@ -44,6 +44,22 @@ final class Check {
     }
   }
 
+  /** All dials, and the wheels of all rows. */
+  static String wheelsOf(RemainderYard yard) {
+    StringBuilder wheels = new StringBuilder("by");
+    int dials = yard.dials();
+    for (int i = 0; i < dials; i++) {
+      wheels.append(' ').append(yard.dialAt(i));
+    }
+    for (int row = 0; row < 12; row++) {
+      wheels.append(", ").append(row).append(':');
+      for (int i = 0; i < dials; i++) {
+        wheels.append(' ').append(yard.wheel(row, i));
+      }
+    }
+    return wheels.toString();
+  }
+
   /** The class of what a call throws, or its answer. */
   static Object outcome(RemainderYard yard, Call call) {
     try {
@@ -108,6 +124,7 @@ final class Check {
 
   void sameState(String what, RemainderYard a, RemainderYard b) {
     same(what + ", text", textOf(a), textOf(b));
+    same(what + ", dials and wheels", wheelsOf(a), wheelsOf(b));
     same(what + ", checksum", a.checksum(), b.checksum());
     for (int i = 0; i < 13; i++) {
       same(what + ", undo " + i, outcome(a, x -> x.undo()), outcome(b, x -> x.undo()));
@@ -116,6 +133,8 @@ final class Check {
     same(what + ", apart", a.apart(), b.apart());
     same(what + ", meeting", outcome(a, x -> x.meeting()), outcome(b, x -> x.meeting()));
     same(what + ", text of meeting", textOf(a), textOf(b));
+    same(what + ", how many conditions", a.forget(), b.forget());
+    same(what + ", spare dials", a.setSpare(0), b.setSpare(0));
   }
 
   void end() {
