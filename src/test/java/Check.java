@@ -1,3 +1,8 @@
+import java.lang.reflect.InvocationTargetException;
+import java.lang.reflect.Method;
+import java.lang.reflect.Modifier;
+import java.util.Arrays;
+import java.util.Comparator;
 import java.util.Objects;
 
 /** Counts checks, prints those that are wrong, and ends a test with the exit code for them. */
@@ -11,6 +16,7 @@ final class Check {
   }
 
   private final String name;
+  private String part = "";
   private int done;
   private int wrong;
 
@@ -73,7 +79,7 @@ final class Check {
     done++;
     if (!Objects.equals(got, due)) {
       wrong++;
-      System.out.println(name + ": " + what + ": got " + got + ", due is " + due);
+      System.out.println(name + part + ": " + what + ": got " + got + ", due is " + due);
     }
   }
 
@@ -110,6 +116,13 @@ final class Check {
     sameState(what + ", what is behind it", yard, maker.make());
   }
 
+  /** The call is refused in each of these yards, and changes nothing in it. */
+  void refused(String what, Call call, Class<?> due, Maker... makers) {
+    for (int i = 0; i < makers.length; i++) {
+      refuses(what + ", yard " + i, makers[i], call, due);
+    }
+  }
+
   /** The call keeps what row was ahead of it; another yard of the same maker tells what it was. */
   void keeps(String what, Maker maker, Call call, int row) {
     RemainderYard yard = maker.make();
@@ -135,6 +148,37 @@ final class Check {
     same(what + ", text of meeting", textOf(a), textOf(b));
     same(what + ", how many conditions", a.forget(), b.forget());
     same(what + ", spare dials", a.setSpare(0), b.setSpare(0));
+  }
+
+  /**
+   * Runs each static method without parameters and without an answer, as a test of its own: one
+   * that throws is wrong, and the others run all the same.
+   */
+  void all(Class<?> tests) {
+    Method[] methods = tests.getDeclaredMethods();
+    Arrays.sort(methods, Comparator.comparing(Method::getName));
+    for (Method method : methods) {
+      boolean plain = Modifier.isStatic(method.getModifiers()) && !method.isSynthetic();
+      if (plain && method.getParameterCount() == 0 && method.getReturnType() == void.class) {
+        part = "." + method.getName();
+        runOne(method);
+      }
+    }
+    part = "";
+    end();
+  }
+
+  private void runOne(Method method) {
+    int before = done;
+    try {
+      method.setAccessible(true);
+      method.invoke(null);
+      same("it checks something", done > before, true);
+    } catch (InvocationTargetException e) {
+      same("it throws", e.getCause(), null);
+    } catch (IllegalAccessException e) {
+      same("it cannot be run", e, null);
+    }
   }
 
   void end() {

@@ -5,27 +5,7 @@ public final class ConditionTermsTest {
   private static final Check check = new Check("ConditionTermsTest");
 
   public static void main(String[] args) {
-    noneAtFirst();
-    atMostEight();
-    numberedAsTheyCome();
-    dialOf1To9999();
-    sameRemainder();
-    commonDivisorsWithEachOther();
-    commonDivisorsWithTheDials();
-    theDialsAreNoConditions();
-    apartOfSeveralPairs();
-    apartTakesTheLeastOne();
-    apartTakesTheLeastOtherOne();
-    apartWithoutConditions();
-    meetingWithoutConditions();
-    meetingIsTheLeast();
-    meetingThrows();
-    periodWithoutConditions();
-    periodWhereApart();
-    periodOfOnes();
-    greatestPeriod();
-    forgetLetsAllGo();
-    check.end();
+    check.all(ConditionTermsTest.class);
   }
 
   private static RemainderYard conditions(int... told) {

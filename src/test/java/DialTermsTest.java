@@ -3,30 +3,7 @@ public final class DialTermsTest {
   private static final Check check = new Check("DialTermsTest");
 
   public static void main(String[] args) {
-    noneAtFirst();
-    atMostTen();
-    numberedAsTheyCome();
-    from2To9999();
-    clashFrom2To9999();
-    noCommonDivisor();
-    commonDivisorOfGreatOnes();
-    firstClash();
-    productIsOfAll();
-    productWithoutAny();
-    noneSpareAtFirst();
-    lastOnesAreSpare();
-    spareBounds();
-    oneThatComesIsSpare();
-    firstSpareBecomesMain();
-    firstOfAllSpareBecomesMain();
-    oneThatComesIsMainIfNoneIsTold();
-    fewerDialsThanSpareOnes();
-    asManyAsDials();
-    lastDialGoes();
-    numbersBehindAreLess();
-    dropBounds();
-    dialAtBounds();
-    check.end();
+    check.all(DialTermsTest.class);
   }
 
   /** Numbers are true up to just the product of the main dials; row 11 is used for it. */
@@ -158,6 +135,39 @@ public final class DialTermsTest {
       yard.setSpare(spare);
       mainProductIs("'the last dials, as many as told': " + spare, yard, due[spare]);
     }
+  }
+
+  /** Those of rows that ask for the product or the number of a row, by all dials. */
+  private static void spareDialsCountInAllOtherCalls() {
+    Check.Call[] calls = {x -> x.product(), x -> x.set(1, 208), x -> x.set(1, 210), x -> x.tell(0),
+        x -> x.tellSigned(0), x -> x.tellSigned(2), x -> x.copy(1, 0), x -> x.add(1, 0, 0),
+        x -> x.divideBy(1, 0, 3), x -> x.divideBy(1, 0, 0), x -> x.inverse(1, 0), x -> x.power(1, 0, -1),
+        x -> x.digit(0, 3), x -> x.compare(0, 2), x -> x.sign(0), x -> x.sign(2),
+        x -> x.isOver(0, 2, '+'), x -> x.isOver(2, 2, '+'), x -> x.isOver(2, 2, '*'),
+        x -> x.isOver(3, 3, '*'), x -> x.isEnough(0), x -> x.isEnough(3), x -> x.setFraction(1, 3, 11),
+        x -> x.fraction(2), x -> x.fraction(3), x -> x.told(0, 15), x -> x.told(0, 9), x -> x.told(0, 12),
+        x -> x.open(2), x -> x.open(4), x -> x.isSound(), x -> x.addDial(11), x -> x.clash(7)};
+    for (int i = 0; i < calls.length; i++) {
+      for (int spare = 1; spare <= 4; spare++) {
+        RemainderYard yard = spareOf(spare);
+        RemainderYard due = spareOf(0);
+        String what = "a call that does not ask for main dials, " + i + ", " + spare + " spare";
+        check.same(what, Check.outcome(yard, calls[i]), Check.outcome(due, calls[i]));
+        check.same(what + ", the rows", Check.wheelsOf(yard), Check.wheelsOf(due));
+        check.same(what + ", the text", Check.textOf(yard), Check.textOf(due));
+      }
+    }
+  }
+
+  /** By 2, 3, 5 and 7; row 0 is 143, row 2 is 13, rows 3 and 4 are 2 and 1. */
+  private static RemainderYard spareOf(int many) {
+    RemainderYard yard = Check.yard(2, 3, 5, 7);
+    yard.set(0, 143);
+    yard.set(2, 13);
+    yard.set(3, 2);
+    yard.set(4, 1);
+    yard.setSpare(many);
+    return yard;
   }
 
   private static void spareBounds() {

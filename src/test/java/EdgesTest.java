@@ -5,32 +5,7 @@ public final class EdgesTest {
   private static final Check check = new Check("EdgesTest");
 
   public static void main(String[] args) {
-    isEnoughExactly();
-    isEnoughByOne();
-    isEnoughBelowZero();
-    isEnoughOfHalf();
-    isEnoughTheGreatestOfNine();
-    isEnoughJustNine();
-    isOverSum();
-    isOverProduct();
-    isOverProductOfGreatOnes();
-    isOverOfZeros();
-    compareNeighbours();
-    fractionAboveTheLine();
-    fractionBelowTheLine();
-    fractionBothAtTheEdge();
-    fractionOfGreatDials();
-    fractionOfFewNumbers();
-    fractionCommonDivisors();
-    fractionsAllOfSmallProducts();
-    openOne();
-    openAll();
-    openCut();
-    divideByEdges();
-    determinantSigns();
-    polynomialOrder();
-    isSoundAtTheEdges();
-    check.end();
+    check.all(EdgesTest.class);
   }
 
   private static BigInteger big(long value) {
@@ -155,6 +130,20 @@ public final class EdgesTest {
     check.same("isOver: 14 squared by 196", isOver(big(14), big(14), '*', 4, 49), true);
     check.same("isOver: 14 squared by 197", isOver(big(14), big(14), '*', 197), false);
     check.same("isOver: 14 squared by 195", isOver(big(14), big(14), '*', 195), true);
+  }
+
+  private static void isOverByAllDials() {
+    for (int spare = 1; spare <= 3; spare++) {
+      RemainderYard yard = Check.yard(3, 5, 7);
+      yard.setSpare(spare);
+      yard.set(0, 8);
+      yard.set(1, 13);
+      yard.set(2, 15);
+      yard.set(3, 7);
+      check.same("isOver: 'the product of all dials', 13 + 15", yard.isOver(1, 2, '+'), false);
+      check.same("isOver: 'the product of all dials', 8 times 13", yard.isOver(0, 1, '*'), false);
+      check.same("isOver: 'the product of all dials', 15 times 7", yard.isOver(2, 3, '*'), true);
+    }
   }
 
   private static void isOverProductOfGreatOnes() {
@@ -304,10 +293,41 @@ public final class EdgesTest {
     check.same("fraction: 'no common divisor above 1', 0/-8", fractionOf(yard), "0/1");
     yard.set(6, 11);
     check.same("fraction: a row with no small one", fractionOf(yard), Yards.NONE);
-    // 2 * 104 is 6 by 202, but 2 is a divisor of the dial, and 104 is not 3 by 202
-    RemainderYard divisor = Check.yard(202);
-    divisor.set(6, 104);
-    check.same("fraction: 'no common divisor above 1 with a dial'", fractionOf(divisor), Yards.NONE);
+  }
+
+  private static void fractionCommonDivisorWithADial() {
+    // 2 * 104 is 6 by 202, but 2 is a divisor of a dial, and 104 is not 3 by 202
+    for (int[] dials : new int[][] {{202}, {2, 101}, {101, 2}}) {
+      for (int spare = 0; spare <= dials.length; spare++) {
+        RemainderYard yard = Check.yard(dials);
+        yard.setSpare(spare);
+        yard.set(6, 104);
+        check.same("fraction: 'no common divisor above 1 with a dial', spare " + spare, fractionOf(yard),
+            Yards.NONE);
+      }
+    }
+  }
+
+  private static void inverseOfEachPlace() {
+    for (int dial : new int[] {2, 4, 7, 9, 10, 12, 36, 97, 8192}) {
+      for (int place = 0; place < Math.min(dial, 200); place++) {
+        RemainderYard yard = Check.yard(11, 17, dial);
+        yard.set(0, 1);
+        yard.set(1, 1);
+        yard.turn(0, 2, place);
+        boolean there = big(place).gcd(big(dial)).equals(BigInteger.ONE);
+        String what = "'has each wheel at the remainder of 1': " + place + " by " + dial;
+        Object due = there ? (Object) 0 : Yards.ARITHMETIC;
+        check.same(what + ", inverse", Check.outcome(yard, x -> x.inverse(2, 0)), due);
+        check.same(what + ", divide", Check.outcome(yard, x -> x.divide(3, 1, 0)), due);
+        check.same(what + ", power", Check.outcome(yard, x -> x.power(4, 0, -1)), due);
+        yard.multiply(5, 2, 0);
+        yard.multiply(6, 3, 0);
+        yard.multiply(7, 4, 0);
+        check.same(what + ", the product", yard.wheel(5, 2) + " " + yard.wheel(6, 2) + " "
+            + yard.wheel(7, 2), there ? "1 1 1" : "0 0 0");
+      }
+    }
   }
 
   /** All numbers by all small products, against all fractions, one after the other. */
@@ -439,6 +459,24 @@ public final class EdgesTest {
     zero.set(4, 6);
     zero.polynomial(0, 3, 2, 11);
     check.tells("polynomial: the variable is 0", zero, zero.tell(0), "5");
+  }
+
+  private static void isSoundWithEightConditions() {
+    int[] dials = {9999, 9998, 9997, 9995, 9991, 9989, 9973, 1};
+    for (int last = 0; last < 2; last++) {
+      RemainderYard yard = Check.yard(3, 5);
+      for (int i = 0; i < 8; i++) {
+        yard.meet(7 * i, i == 7 - last ? 9999 : dials[i]);
+      }
+      check.same("eight conditions, apart", yard.apart() < 0, false);
+      check.same("isSound: eight conditions, apart", yard.isSound(), true);
+    }
+    RemainderYard yard = Check.yard(3, 5);
+    for (int i = 0; i < 8; i++) {
+      yard.meet(-5, dials[i]);
+    }
+    check.same("eight conditions, all met", yard.apart(), -1);
+    check.same("isSound: eight conditions, all met", yard.isSound(), true);
   }
 
   private static void isSoundAtTheEdges() {

@@ -12,25 +12,7 @@ public final class EndsTest {
   private static final Check check = new Check("EndsTest");
 
   public static void main(String[] args) {
-    set();
-    setFraction();
-    setFractionMultiples();
-    setFractionOfNoInverse();
-    powerOfZero();
-    powerOfExponents();
-    powerBelowZero();
-    powerLeast();
-    meet();
-    determinantGoesRound();
-    isEnoughGoesRound();
-    polynomialGoesRound();
-    toldSets();
-    toldSetsOfTen();
-    toldNoWheel();
-    checksumGoesRound();
-    checksumOrder();
-    checksumParts();
-    check.end();
+    check.all(EndsTest.class);
   }
 
   private static BigInteger big(long value) {
@@ -156,7 +138,7 @@ public final class EndsTest {
     int[] exponents = {-1, -2, -3, -9998, -65536, -(1 << 30), -MOST, LEAST};
     for (int[] dials : YARDS) {
       for (int exponent : exponents) {
-        for (long base : new long[] {1, -1, 31, 1000003}) {
+        for (long base : new long[] {1, -1, 2, -3, 10, 31, 101, 1000003}) {
           RemainderYard yard = Check.yard(dials);
           yard.set(3, base);
           Object got = Check.outcome(yard, x -> x.power(2, 3, exponent));
@@ -329,6 +311,20 @@ public final class EndsTest {
       seen[yard.checksum() < 0 ? 1 : 0] = true;
     }
     check.same("checksum: sums below 0 were seen, and others", seen[0] && seen[1], true);
+  }
+
+  private static void checksumOfEightConditions() {
+    for (int many = 0; many <= 8; many++) {
+      RemainderYard yard = new RemainderYard();
+      int[] conditions = new int[2 * many];
+      for (int i = 0; i < many; i++) {
+        conditions[2 * i] = 9999 - i;
+        conditions[2 * i + 1] = 9990 - i;
+        yard.meet(-9, 9999 - i);
+      }
+      check.same("checksum: 'for each condition', " + many, yard.checksum(),
+          sum(yard, 0, conditions).longValue());
+    }
   }
 
   private static void checksumOrder() {

@@ -2,203 +2,109 @@ import java.util.ArrayList;
 import java.util.List;
 
 /**
- * The paragraph Exceptions of the Terms: for each call and each row of its 'Throws' a test, and for
- * each two of them that can apply at once another one; behind each of them nothing has changed.
+ * Each row of 'Throws' by itself, at its bounds: 'a method that throws an exception changes nothing'.
+ * The row that would become something is 1 where it can be, since none of its wheels is at 0.
  */
 public final class ExceptionsTest {
   private static final int LEAST = Integer.MIN_VALUE;
   private static final int MOST = Integer.MAX_VALUE;
+  private static final int[] NO_DIALS = {LEAST, -1, 10, MOST};
   private static final Check check = new Check("ExceptionsTest");
 
   public static void main(String[] args) {
-    addDial();
-    addDialTwoAtOnce();
-    dials();
-    text();
-    read();
-    wheelAndDigit();
-    turn();
-    turnTwoAtOnce();
-    sums();
-    power();
-    inverseAndDivide();
-    divideBy();
-    determinantAndIsEnough();
-    polynomial();
-    polynomialTwoAtOnce();
-    isOver();
-    mend();
-    setFraction();
-    setFractionTwoAtOnce();
-    fraction();
-    told();
-    meet();
-    meeting();
-    undo();
-    check.end();
+    check.all(ExceptionsTest.class);
   }
 
-  /** The call is refused in each of these yards, and changes nothing in it. */
-  private static void refused(String what, Check.Call call, Class<?> due, Check.Maker... makers) {
-    for (int i = 0; i < makers.length; i++) {
-      check.refuses(what + ", yard " + i, makers[i], call, due);
-    }
-  }
-
-  private static void refusedInAll(String what, Check.Call call, Class<?> due) {
-    refused(what, call, due, RemainderYard::new, Yards::crowded, Yards::full);
-  }
-
-  private static void refusedWithDials(String what, Check.Call call, Class<?> due) {
-    refused(what, call, due, Yards::crowded, Yards::full);
-  }
-
-  private static Check.Maker typed(Check.Maker maker, String text) {
-    return () -> {
-      RemainderYard yard = maker.make();
-      yard.erase();
-      Check.type(yard, text);
-      return yard;
-    };
-  }
-
-  private static void addDial() {
+  private static void addDialOutOfRange() {
     for (int dial : new int[] {LEAST, -1, 0, 1, 10000, MOST}) {
-      refusedInAll("addDial: out of range, " + dial, x -> x.addDial(dial), Yards.RANGE);
+      check.refused("addDial " + dial, x -> x.addDial(dial), Yards.RANGE, Yards.ALL);
     }
+  }
+
+  private static void addDialWithACommonDivisor() {
     for (int dial : new int[] {3, 9, 10, 13, 9999, 9997}) {
-      refusedWithDials("addDial: a common divisor, " + dial, x -> x.addDial(dial), Yards.CLASH);
+      check.refused("addDial " + dial, x -> x.addDial(dial), Yards.CLASH, Yards::crowded);
     }
+  }
+
+  private static void addDialIfThereAreTen() {
     for (int dial : new int[] {31, 9973, 37 * 41}) {
-      refused("addDial: ten, " + dial, x -> x.addDial(dial), Yards.FULL, Yards::full);
+      check.refused("addDial " + dial, x -> x.addDial(dial), Yards.FULL, Yards::full);
     }
   }
 
-  private static void addDialTwoAtOnce() {
-    for (int dial : new int[] {0, -3, -15, 10005, 15015, 30030, -30030}) {
-      refusedWithDials("addDial: out of range and a common divisor, " + dial, x -> x.addDial(dial),
-          Yards.RANGE);
-    }
-    for (int dial : new int[] {1, -1, 10007, -31}) {
-      refused("addDial: out of range and ten, " + dial, x -> x.addDial(dial), Yards.RANGE, Yards::full);
-    }
-    for (int dial : new int[] {2, 29, 9999, 9998, 31 * 7}) {
-      refused("addDial: a common divisor and ten, " + dial, x -> x.addDial(dial), Yards.CLASH,
-          Yards::full);
-    }
-    for (int dial : new int[] {0, 10000, -2, 20000}) {
-      refused("addDial: all three, " + dial, x -> x.addDial(dial), Yards.RANGE, Yards::full);
-    }
-  }
-
-  private static void dials() {
+  private static void clashOutOfRange() {
     for (int dial : new int[] {LEAST, -1, 0, 1, 10000, 15015, MOST}) {
-      refusedInAll("clash: out of range, " + dial, x -> x.clash(dial), Yards.RANGE);
+      check.refused("clash " + dial, x -> x.clash(dial), Yards.RANGE, Yards.ALL);
     }
-    for (int index : new int[] {LEAST, -1, 10, MOST}) {
-      refusedInAll("dropDial: no such dial, " + index, x -> x.dropDial(index), Yards.NONE);
-      refusedInAll("dialAt: no such dial, " + index, x -> x.dialAt(index), Yards.NONE);
+  }
+
+  private static void dropDialIfThereIsNone() {
+    for (int index : NO_DIALS) {
+      check.refused("dropDial " + index, x -> x.dropDial(index), Yards.NONE, Yards.ALL);
     }
-    refused("dropDial: no such dial, 5 of 5", x -> x.dropDial(5), Yards.NONE, Yards::crowded);
-    refused("dialAt: no such dial, 5 of 5", x -> x.dialAt(5), Yards.NONE, Yards::crowded);
-    refused("dropDial: without dials", x -> x.dropDial(0), Yards.NONE, RemainderYard::new);
-    refused("dialAt: without dials", x -> x.dialAt(0), Yards.NONE, RemainderYard::new);
+    check.refused("dropDial 5 of 5", x -> x.dropDial(5), Yards.NONE, Yards::crowded);
+    check.refused("dropDial 0 of none", x -> x.dropDial(0), Yards.NONE, RemainderYard::new);
+  }
+
+  private static void dialAtIfThereIsNone() {
+    for (int index : NO_DIALS) {
+      check.refused("dialAt " + index, x -> x.dialAt(index), Yards.NONE, Yards.ALL);
+    }
+    check.refused("dialAt 5 of 5", x -> x.dialAt(5), Yards.NONE, Yards::crowded);
+    check.refused("dialAt 0 of none", x -> x.dialAt(0), Yards.NONE, RemainderYard::new);
+  }
+
+  private static void setSpareBelowZeroOrAbove() {
     for (int many : new int[] {LEAST, -1, 11, MOST}) {
-      refusedInAll("setSpare: " + many, x -> x.setSpare(many), Yards.RANGE);
+      check.refused("setSpare " + many, x -> x.setSpare(many), Yards.RANGE, Yards.ALL);
     }
-    refused("setSpare: 6 of 5", x -> x.setSpare(6), Yards.RANGE, Yards::crowded);
-    refused("setSpare: 1 of none", x -> x.setSpare(1), Yards.RANGE, RemainderYard::new);
-    for (int k : new int[] {LEAST, -1, 0, 11, MOST}) {
-      refusedInAll("open: out of range, " + k, x -> x.open(k), Yards.RANGE);
-    }
-    refused("open: 6 of 5", x -> x.open(6), Yards.RANGE, Yards::crowded);
-    refused("open: 1 of none", x -> x.open(1), Yards.RANGE, RemainderYard::new);
+    check.refused("setSpare 6 of 5", x -> x.setSpare(6), Yards.RANGE, Yards::crowded);
+    check.refused("setSpare 1 of none", x -> x.setSpare(1), Yards.RANGE, RemainderYard::new);
   }
 
-  private static void text() {
-    for (int code : new int[] {0, 31, 127, 255, 65535}) {
-      char sign = (char) code;
-      refusedInAll("type: no such code, " + code, x -> x.type(sign), Yards.RANGE);
-      refused("type: no such code and 80 signs, " + code, x -> x.type(sign), Yards.RANGE, Yards::full);
+  private static void typeOfNoCode() {
+    for (int code : new int[] {0, 9, 31, 127, 255, 8364, 65535}) {
+      check.refused("type, code " + code, x -> x.type((char) code), Yards.RANGE, RemainderYard::new,
+          Yards::crowded);
     }
+  }
+
+  private static void typeIfThereAre80() {
     for (char sign : new char[] {' ', '5', '~'}) {
-      refused("type: 80 signs, '" + sign + "'", x -> x.type(sign), Yards.FULL, Yards::full);
+      check.refused("type '" + sign + "'", x -> x.type(sign), Yards.FULL, Yards::full);
     }
+  }
+
+  private static void signAtNoPlace() {
     for (int place : new int[] {LEAST, -1, 80, MOST}) {
-      refusedInAll("signAt: no such place, " + place, x -> x.signAt(place), Yards.RANGE);
+      check.refused("signAt " + place, x -> x.signAt(place), Yards.RANGE, Yards.ALL);
     }
-    refused("signAt: 4 of 4", x -> x.signAt(4), Yards.RANGE, Yards::crowded);
-    refused("signAt: an empty text", x -> x.signAt(0), Yards.RANGE, RemainderYard::new);
+    check.refused("signAt 4 of 4", x -> x.signAt(4), Yards.RANGE, Yards::crowded);
+    check.refused("signAt 0 of none", x -> x.signAt(0), Yards.RANGE, RemainderYard::new);
   }
 
-  private static void read() {
-    Check.Maker[] makers = {RemainderYard::new, Yards::crowded, Yards::full};
-    for (Check.Maker maker : makers) {
+  private static void readIntoNoRow() {
+    for (Check.Maker maker : Yards.ALL) {
       for (int row : Yards.NO_ROWS) {
-        refused("read: no such row, " + row, x -> x.read(row), Yards.ROW, typed(maker, "23"));
-        refused("read: no such row and no number, " + row, x -> x.read(row), Yards.ROW,
-            typed(maker, ""), typed(maker, "x"), typed(maker, "9".repeat(79) + "-"));
-      }
-      for (int row : new int[] {0, 4, 11}) {
-        refused("read: no number, row " + row, x -> x.read(row), Yards.NO_NUMBER, typed(maker, ""),
-            typed(maker, "-"), typed(maker, "1 "), typed(maker, "9".repeat(79) + "-"));
+        check.refused("read " + row, x -> x.read(row), Yards.ROW, Yards.typed(maker, "23"));
       }
     }
   }
 
-  private static void wheelAndDigit() {
-    int[] noDials = {LEAST, -1, 10, MOST};
-    for (int row : Yards.NO_ROWS) {
-      refusedWithDials("wheel: no such row, " + row, x -> x.wheel(row, 0), Yards.ROW);
-      refusedWithDials("digit: no such row, " + row, x -> x.digit(row, 0), Yards.ROW);
-      for (int index : noDials) {
-        refusedInAll("wheel: no such row and no such dial, " + row, x -> x.wheel(row, index), Yards.ROW);
-        refusedInAll("digit: no such row and no such dial, " + row, x -> x.digit(row, index), Yards.ROW);
+  private static void readOfNoNumber() {
+    for (Check.Maker maker : Yards.ALL) {
+      for (String text : new String[] {"", "-", "+", "1 ", "1-", "--1", "9".repeat(60) + "-"}) {
+        for (int row : new int[] {0, 1, 11}) {
+          check.refused("read '" + text + "' into " + row, x -> x.read(row), Yards.NO_NUMBER,
+              Yards.typed(maker, text));
+        }
       }
     }
-    for (int index : noDials) {
-      refusedInAll("wheel: no such dial, " + index, x -> x.wheel(11, index), Yards.NONE);
-      refusedInAll("digit: no such dial, " + index, x -> x.digit(11, index), Yards.NONE);
-    }
-    refused("wheel: dial 5 of 5", x -> x.wheel(0, 5), Yards.NONE, Yards::crowded);
-    refused("digit: dial 5 of 5", x -> x.digit(0, 5), Yards.NONE, Yards::crowded);
-    refused("wheel: without dials", x -> x.wheel(0, 0), Yards.NONE, RemainderYard::new);
-    refused("digit: without dials", x -> x.digit(0, 0), Yards.NONE, RemainderYard::new);
   }
 
-  private static void turn() {
-    for (int row : Yards.NO_ROWS) {
-      refusedWithDials("turn: no such row, " + row, x -> x.turn(row, 0, 1), Yards.ROW);
-    }
-    for (int index : new int[] {LEAST, -1, 10, MOST}) {
-      refusedInAll("turn: no such dial, " + index, x -> x.turn(3, index, 0), Yards.NONE);
-    }
-    refused("turn: dial 5 of 5", x -> x.turn(3, 5, 0), Yards.NONE, Yards::crowded);
-    refused("turn: without dials", x -> x.turn(3, 0, 0), Yards.NONE, RemainderYard::new);
-    for (int place : new int[] {LEAST, -1, 13, MOST}) {
-      refusedWithDials("turn: no such place, " + place, x -> x.turn(3, 0, place), Yards.RANGE);
-    }
-    refused("turn: place 3 by 3", x -> x.turn(3, 0, 3), Yards.RANGE, Yards::crowded);
-    refused("turn: place 13 by 13", x -> x.turn(3, 4, 13), Yards.RANGE, Yards::crowded);
-    refused("turn: place 29 by 29", x -> x.turn(3, 9, 29), Yards.RANGE, Yards::full);
-  }
-
-  private static void turnTwoAtOnce() {
-    for (int row : Yards.NO_ROWS) {
-      refusedInAll("turn: no such row and no such dial", x -> x.turn(row, 10, 0), Yards.ROW);
-      refusedInAll("turn: no such row and no such dial", x -> x.turn(row, -1, 0), Yards.ROW);
-      refusedWithDials("turn: no such row and no such place", x -> x.turn(row, 0, 9999), Yards.ROW);
-      refusedWithDials("turn: no such row and no such place", x -> x.turn(row, 0, -1), Yards.ROW);
-      refusedInAll("turn: all three", x -> x.turn(row, 10, -1), Yards.ROW);
-    }
-    for (int place : new int[] {LEAST, -1, 9999, MOST}) {
-      refusedInAll("turn: no such dial and no such place", x -> x.turn(3, 10, place), Yards.NONE);
-      refusedInAll("turn: no such dial and no such place", x -> x.turn(3, -1, place), Yards.NONE);
-    }
-  }
-
-  /** The calls that ask for rows alone. */
-  private static void sums() {
+  /** The calls that can be refused for their rows alone. */
+  private static void callsOfRowsAlone() {
     for (int row : Yards.NO_ROWS) {
       List<Check.Call> calls = new ArrayList<>(List.of(x -> x.set(row, 5), x -> x.tell(row),
           x -> x.tellSigned(row), x -> x.copy(row, 1), x -> x.copy(1, row), x -> x.copy(row, row)));
@@ -209,131 +115,185 @@ public final class ExceptionsTest {
       calls.addAll(List.of(x -> x.compare(row, 1), x -> x.compare(1, row), x -> x.sign(row),
           x -> x.isTrue(row), x -> x.find(row)));
       for (int i = 0; i < calls.size(); i++) {
-        refusedInAll("no such row, " + row + ", call " + i, calls.get(i), Yards.ROW);
+        check.refused("row " + row + ", call " + i, calls.get(i), Yards.ROW, Yards.ALL);
       }
     }
   }
 
-  private static void power() {
+  private static void wheelAndDigitOfNoRow() {
+    for (int row : Yards.NO_ROWS) {
+      check.refused("wheel " + row, x -> x.wheel(row, 0), Yards.ROW, Yards.WITH_DIALS);
+      check.refused("digit " + row, x -> x.digit(row, 0), Yards.ROW, Yards.WITH_DIALS);
+    }
+  }
+
+  private static void wheelAndDigitOfNoDial() {
+    for (int index : NO_DIALS) {
+      check.refused("wheel, dial " + index, x -> x.wheel(11, index), Yards.NONE, Yards.ALL);
+      check.refused("digit, dial " + index, x -> x.digit(11, index), Yards.NONE, Yards.ALL);
+    }
+    check.refused("wheel, dial 5 of 5", x -> x.wheel(0, 5), Yards.NONE, Yards::crowded);
+    check.refused("digit, dial 5 of 5", x -> x.digit(0, 5), Yards.NONE, Yards::crowded);
+    check.refused("wheel, dial 0 of none", x -> x.wheel(0, 0), Yards.NONE, RemainderYard::new);
+    check.refused("digit, dial 0 of none", x -> x.digit(0, 0), Yards.NONE, RemainderYard::new);
+  }
+
+  private static void turnOfNoRow() {
+    for (int row : Yards.NO_ROWS) {
+      check.refused("turn " + row, x -> x.turn(row, 0, 1), Yards.ROW, Yards.WITH_DIALS);
+    }
+  }
+
+  private static void turnOfNoDial() {
+    for (int index : NO_DIALS) {
+      check.refused("turn, dial " + index, x -> x.turn(1, index, 0), Yards.NONE, Yards.ALL);
+    }
+    check.refused("turn, dial 5 of 5", x -> x.turn(1, 5, 0), Yards.NONE, Yards::crowded);
+    check.refused("turn, dial 0 of none", x -> x.turn(1, 0, 0), Yards.NONE, RemainderYard::new);
+  }
+
+  private static void turnToNoPlace() {
+    for (int place : new int[] {LEAST, -1, 13, MOST}) {
+      check.refused("turn to " + place, x -> x.turn(1, 0, place), Yards.RANGE, Yards.WITH_DIALS);
+    }
+    check.refused("turn to 3 by 3", x -> x.turn(1, 0, 3), Yards.RANGE, Yards::crowded);
+    check.refused("turn to 13 by 13", x -> x.turn(1, 4, 13), Yards.RANGE, Yards::crowded);
+    check.refused("turn to 29 by 29", x -> x.turn(1, 9, 29), Yards.RANGE, Yards::full);
+  }
+
+  private static void undoIfNoCallIsKept() {
+    check.refused("undo", x -> x.undo(), Yards.NONE, RemainderYard::new, () -> {
+      RemainderYard yard = Yards.crowded();
+      yard.addDial(17);
+      return yard;
+    }, () -> {
+      RemainderYard yard = Yards.full();
+      yard.dropDial(3);
+      return yard;
+    });
+  }
+
+  private static void powerOfNoRow() {
     for (int row : Yards.NO_ROWS) {
       for (int exponent : new int[] {LEAST, -1, 0, 1, MOST}) {
-        refusedInAll("power: no such row, exponent " + exponent, x -> x.power(row, 1, exponent), Yards.ROW);
-        refusedInAll("power: no such row a, exponent " + exponent, x -> x.power(1, row, exponent),
-            Yards.ROW);
+        check.refused("power " + row + ", exponent " + exponent, x -> x.power(row, 1, exponent), Yards.ROW,
+            Yards.ALL);
+        check.refused("power a " + row + ", exponent " + exponent, x -> x.power(1, row, exponent),
+            Yards.ROW, Yards.ALL);
       }
-      refusedWithDials("power: no such row and no inverse", x -> x.power(row, 0, -1), Yards.ROW);
-      refusedWithDials("power: no such row and no inverse", x -> x.power(row, 0, LEAST), Yards.ROW);
     }
+  }
+
+  private static void powerWithoutInverse() {
     for (int exponent : new int[] {LEAST, -2, -1}) {
-      refusedWithDials("power: no inverse, exponent " + exponent, x -> x.power(1, 0, exponent),
-          Yards.ARITHMETIC);
-      refusedWithDials("power: no inverse, to itself, exponent " + exponent,
-          x -> x.power(0, 0, exponent), Yards.ARITHMETIC);
+      check.refused("power, exponent " + exponent, x -> x.power(1, 0, exponent), Yards.ARITHMETIC,
+          Yards.WITH_DIALS);
+      check.refused("power of itself, exponent " + exponent, x -> x.power(0, 0, exponent),
+          Yards.ARITHMETIC, Yards.WITH_DIALS);
     }
   }
 
-  private static void inverseAndDivide() {
+  private static void inverseOfNoRow() {
     for (int row : Yards.NO_ROWS) {
-      refusedInAll("inverse: no such row", x -> x.inverse(row, 1), Yards.ROW);
-      refusedInAll("inverse: no such row a", x -> x.inverse(1, row), Yards.ROW);
-      refusedWithDials("inverse: no such row and none", x -> x.inverse(row, 0), Yards.ROW);
-      refusedInAll("divide: no such row", x -> x.divide(row, 1, 1), Yards.ROW);
-      refusedInAll("divide: no such row a", x -> x.divide(1, row, 1), Yards.ROW);
-      refusedInAll("divide: no such row b", x -> x.divide(1, 1, row), Yards.ROW);
-      refusedWithDials("divide: no such row and no inverse", x -> x.divide(row, 1, 0), Yards.ROW);
-      refusedWithDials("divide: no such row a and no inverse", x -> x.divide(1, row, 0), Yards.ROW);
+      check.refused("inverse " + row, x -> x.inverse(row, 1), Yards.ROW, Yards.ALL);
+      check.refused("inverse a " + row, x -> x.inverse(1, row), Yards.ROW, Yards.ALL);
     }
-    refusedWithDials("inverse: none", x -> x.inverse(1, 0), Yards.ARITHMETIC);
-    refusedWithDials("inverse: none, to itself", x -> x.inverse(0, 0), Yards.ARITHMETIC);
-    refusedWithDials("divide: no inverse", x -> x.divide(1, 2, 0), Yards.ARITHMETIC);
-    refusedWithDials("divide: no inverse, to itself", x -> x.divide(0, 2, 0), Yards.ARITHMETIC);
-    refusedWithDials("divide: no inverse, by itself", x -> x.divide(1, 0, 0), Yards.ARITHMETIC);
   }
 
-  private static void divideBy() {
-    int[] noDials = {LEAST, -1, 10, MOST};
-    for (int row : Yards.NO_ROWS) {
-      refusedWithDials("divideBy: no such row", x -> x.divideBy(row, 1, 0), Yards.ROW);
-      refusedWithDials("divideBy: no such row a", x -> x.divideBy(1, row, 0), Yards.ROW);
-      for (int index : noDials) {
-        refusedInAll("divideBy: no such row and no such dial", x -> x.divideBy(row, 1, index), Yards.ROW);
-        refusedInAll("divideBy: no such row a and no such dial", x -> x.divideBy(1, row, index),
-            Yards.ROW);
-      }
-    }
-    for (int index : noDials) {
-      refusedInAll("divideBy: no such dial", x -> x.divideBy(1, 2, index), Yards.NONE);
-    }
-    refused("divideBy: dial 5 of 5", x -> x.divideBy(1, 2, 5), Yards.NONE, Yards::crowded);
-    refused("divideBy: without dials", x -> x.divideBy(1, 2, 0), Yards.NONE, RemainderYard::new);
+  private static void inverseIfThereIsNone() {
+    check.refused("inverse", x -> x.inverse(1, 0), Yards.ARITHMETIC, Yards.WITH_DIALS);
+    check.refused("inverse of itself", x -> x.inverse(0, 0), Yards.ARITHMETIC, Yards.WITH_DIALS);
   }
 
-  private static void determinantAndIsEnough() {
+  private static void divideOfNoRow() {
     for (int row : Yards.NO_ROWS) {
-      refusedInAll("determinant: no such row", x -> x.determinant(row, 0), Yards.ROW);
-      refusedInAll("determinant: no such row", x -> x.determinant(row, 3), Yards.ROW);
+      check.refused("divide " + row, x -> x.divide(row, 1, 1), Yards.ROW, Yards.ALL);
+      check.refused("divide a " + row, x -> x.divide(1, row, 1), Yards.ROW, Yards.ALL);
+      check.refused("divide b " + row, x -> x.divide(1, 1, row), Yards.ROW, Yards.ALL);
+    }
+  }
+
+  private static void divideWithoutInverse() {
+    check.refused("divide", x -> x.divide(1, 2, 0), Yards.ARITHMETIC, Yards.WITH_DIALS);
+    check.refused("divide into the second", x -> x.divide(0, 2, 0), Yards.ARITHMETIC, Yards.WITH_DIALS);
+    check.refused("divide by itself", x -> x.divide(1, 0, 0), Yards.ARITHMETIC, Yards.WITH_DIALS);
+  }
+
+  private static void divideByOfNoRow() {
+    for (int row : Yards.NO_ROWS) {
+      check.refused("divideBy " + row, x -> x.divideBy(row, 1, 0), Yards.ROW, Yards.WITH_DIALS);
+      check.refused("divideBy a " + row, x -> x.divideBy(1, row, 0), Yards.ROW, Yards.WITH_DIALS);
+    }
+  }
+
+  private static void divideByNoDial() {
+    for (int index : NO_DIALS) {
+      check.refused("divideBy dial " + index, x -> x.divideBy(1, 2, index), Yards.NONE, Yards.ALL);
+    }
+    check.refused("divideBy dial 5 of 5", x -> x.divideBy(1, 2, 5), Yards.NONE, Yards::crowded);
+    check.refused("divideBy dial 0 of none", x -> x.divideBy(1, 2, 0), Yards.NONE, RemainderYard::new);
+  }
+
+  private static void determinantOfNoRow() {
+    for (int row : Yards.NO_ROWS) {
+      check.refused("determinant " + row, x -> x.determinant(row, 0), Yards.ROW, Yards.ALL);
+      check.refused("determinant " + row, x -> x.determinant(row, 3), Yards.ROW, Yards.ALL);
     }
     for (int first : new int[] {LEAST, -9, -8, -1, 4, 5, 11, 12, MOST - 8, MOST - 7, MOST}) {
-      refusedInAll("determinant: no such row, first " + first, x -> x.determinant(0, first), Yards.ROW);
-      refusedInAll("isEnough: no such row, first " + first, x -> x.isEnough(first), Yards.ROW);
+      check.refused("determinant, first " + first, x -> x.determinant(1, first), Yards.ROW, Yards.ALL);
     }
   }
 
-  private static void polynomial() {
-    for (int many : new int[] {LEAST, -1, 0, 7, 12, MOST}) {
-      refusedInAll("polynomial: how many, " + many, x -> x.polynomial(0, 1, many, 2), Yards.RANGE);
+  private static void isEnoughOfNoRow() {
+    for (int first : new int[] {LEAST, -9, -8, -1, 4, 5, 11, 12, MOST - 8, MOST - 7, MOST}) {
+      check.refused("isEnough, first " + first, x -> x.isEnough(first), Yards.ROW, Yards.ALL);
     }
+  }
+
+  private static void polynomialOfSoMany() {
+    for (int many : new int[] {LEAST, -1, 0, 7, 12, MOST}) {
+      check.refused("polynomial of " + many, x -> x.polynomial(1, 2, many, 2), Yards.RANGE, Yards.ALL);
+    }
+  }
+
+  private static void polynomialOfNoRow() {
     for (int many = 1; many <= 6; many++) {
       int asked = many;
+      String what = "polynomial of " + many;
       for (int row : Yards.NO_ROWS) {
-        refusedInAll("polynomial: no such row", x -> x.polynomial(row, 1, asked, 2), Yards.ROW);
-        refusedInAll("polynomial: no such row at", x -> x.polynomial(0, 1, asked, row), Yards.ROW);
+        check.refused(what + ", " + row, x -> x.polynomial(row, 1, asked, 2), Yards.ROW, Yards.ALL);
+        check.refused(what + ", at " + row, x -> x.polynomial(1, 1, asked, row), Yards.ROW, Yards.ALL);
       }
       for (int first : new int[] {LEAST, -asked, -1, 13 - asked, 12, MOST - asked, MOST - asked + 1,
           MOST - asked + 2, MOST}) {
-        refusedInAll("polynomial: no such row, first " + first + ", many " + many,
-            x -> x.polynomial(0, first, asked, 2), Yards.ROW);
+        check.refused(what + ", first " + first, x -> x.polynomial(1, first, asked, 2), Yards.ROW,
+            Yards.ALL);
       }
     }
   }
 
-  private static void polynomialTwoAtOnce() {
-    for (int many : new int[] {LEAST, -1, 0, 7, MOST}) {
-      for (int row : Yards.NO_ROWS) {
-        refusedInAll("polynomial: how many and no such row", x -> x.polynomial(row, 1, many, 2),
-            Yards.RANGE);
-        refusedInAll("polynomial: how many and no such row first", x -> x.polynomial(0, row, many, 2),
-            Yards.RANGE);
-        refusedInAll("polynomial: how many and no such row at", x -> x.polynomial(0, 1, many, row),
-            Yards.RANGE);
-        refusedInAll("polynomial: how many and no row at all", x -> x.polynomial(row, row, many, row),
-            Yards.RANGE);
-      }
-      refusedInAll("polynomial: how many and rows beyond the last", x -> x.polynomial(0, 11, many, 2),
-          Yards.RANGE);
-    }
-  }
-
-  private static void isOver() {
+  private static void isOverOfNoRow() {
     for (int row : Yards.NO_ROWS) {
       for (char act : new char[] {'+', '*'}) {
-        refusedInAll("isOver: no such row a, " + act, x -> x.isOver(row, 1, act), Yards.ROW);
-        refusedInAll("isOver: no such row b, " + act, x -> x.isOver(1, row, act), Yards.ROW);
+        check.refused("isOver a " + row + ", " + act, x -> x.isOver(row, 1, act), Yards.ROW, Yards.ALL);
+        check.refused("isOver b " + row + ", " + act, x -> x.isOver(1, row, act), Yards.ROW, Yards.ALL);
       }
-      for (char act : new char[] {'-', 0, 'x'}) {
-        refusedInAll("isOver: no such row a and no such act", x -> x.isOver(row, 1, act), Yards.ROW);
-        refusedInAll("isOver: no such row b and no such act", x -> x.isOver(1, row, act), Yards.ROW);
-      }
-    }
-    for (char act : new char[] {0, ' ', ')', ',', '-', '.', '/', 'x', 555, 554, 65535}) {
-      refusedInAll("isOver: no such act, " + (int) act, x -> x.isOver(1, 2, act), Yards.RANGE);
     }
   }
 
-  private static void mend() {
-    for (int row : Yards.NO_ROWS) {
-      refusedInAll("mend: no such row", x -> x.mend(row), Yards.ROW);
+  private static void isOverByNoAct() {
+    for (char act : new char[] {0, ' ', ')', ',', '-', '.', '/', 'x', 299, 298, 65535}) {
+      check.refused("isOver, act " + (int) act, x -> x.isOver(1, 2, act), Yards.RANGE, Yards.ALL);
     }
+  }
+
+  private static void mendOfNoRow() {
+    for (int row : Yards.NO_ROWS) {
+      check.refused("mend " + row, x -> x.mend(row), Yards.ROW, Yards.ALL);
+    }
+  }
+
+  private static void mendIfFindTellsNoDial() {
     refusedMend(-1, 1, RemainderYard::new);
     refusedMend(-1, 1, Yards::crowded);
     refusedMend(-1, 0, falseRow(29, 1));
@@ -342,8 +302,8 @@ public final class ExceptionsTest {
   }
 
   private static void refusedMend(int found, int row, Check.Maker maker) {
-    check.same("mend: what find() tells", maker.make().find(row), found);
-    refused("mend: find() tells " + found, x -> x.mend(row), Yards.NONE, maker);
+    check.same("what find() tells", maker.make().find(row), found);
+    check.refused("mend, find() tells " + found, x -> x.mend(row), Yards.NONE, maker);
   }
 
   private static Check.Maker falseRow(int number, int spare) {
@@ -357,85 +317,84 @@ public final class ExceptionsTest {
     };
   }
 
-  private static void setFraction() {
+  private static void setFractionOfNoRow() {
     for (int row : Yards.NO_ROWS) {
-      refusedInAll("setFraction: no such row", x -> x.setFraction(row, 3, 1), Yards.ROW);
+      check.refused("setFraction " + row, x -> x.setFraction(row, 3, 1), Yards.ROW, Yards.ALL);
     }
+  }
+
+  private static void setFractionOfZeroBelow() {
     for (long above : new long[] {Long.MIN_VALUE, -1, 0, 1, Long.MAX_VALUE}) {
-      refusedInAll("setFraction: 0 below the line", x -> x.setFraction(0, above, 0), Yards.ARITHMETIC);
+      check.refused("setFraction " + above + "/0", x -> x.setFraction(1, above, 0), Yards.ARITHMETIC,
+          Yards.ALL);
+    }
+  }
+
+  private static void setFractionWithACommonDivisor() {
+    for (long above : new long[] {Long.MIN_VALUE, -1, 0, 1, Long.MAX_VALUE}) {
       for (long below : new long[] {3, -3, 13, -13, 5005, -5005, 9223372036854775805L}) {
-        refusedWithDials("setFraction: a common divisor, " + below, x -> x.setFraction(0, above, below),
-            Yards.ARITHMETIC);
+        check.refused("setFraction " + above + "/" + below, x -> x.setFraction(1, above, below),
+            Yards.ARITHMETIC, Yards.WITH_DIALS);
       }
-      refused("setFraction: a common divisor 2, the least", x -> x.setFraction(0, above, Long.MIN_VALUE),
+      check.refused("setFraction " + above + " by the least", x -> x.setFraction(1, above, Long.MIN_VALUE),
           Yards.ARITHMETIC, Yards::full);
     }
   }
 
-  private static void setFractionTwoAtOnce() {
+  private static void fractionOfNoRow() {
     for (int row : Yards.NO_ROWS) {
-      refusedInAll("setFraction: no such row and 0 below the line", x -> x.setFraction(row, 1, 0), Yards.ROW);
-      for (long below : new long[] {3, -5, 13, -1001}) {
-        refusedWithDials("setFraction: no such row and a common divisor", x -> x.setFraction(row, 1, below),
-            Yards.ROW);
-      }
+      check.refused("fraction " + row, x -> x.fraction(row), Yards.ROW, Yards.ALL);
     }
   }
 
-  private static void fraction() {
-    for (int row : Yards.NO_ROWS) {
-      refusedInAll("fraction: no such row", x -> x.fraction(row), Yards.ROW);
-    }
-    refused("fraction: there is none", x -> x.fraction(0), Yards.NONE, RemainderYard::new,
-        falseRow(37, 2), falseRow(100, 0));
-    refused("fraction: there is none, of 0 by 2", x -> x.fraction(0), Yards.NONE, () -> Check.yard(2));
+  private static void fractionIfThereIsNone() {
+    check.refused("fraction", x -> x.fraction(0), Yards.NONE, RemainderYard::new, falseRow(37, 2),
+        falseRow(100, 0), () -> Check.yard(2));
   }
 
-  private static void told() {
+  private static void toldOfNoRow() {
     for (int row : Yards.NO_ROWS) {
-      refusedInAll("told: no such row", x -> x.told(row, 0), Yards.ROW);
-      for (int set : new int[] {LEAST, -1, 1024, MOST}) {
-        refusedInAll("told: no such row and no such set", x -> x.told(row, set), Yards.ROW);
-      }
+      check.refused("told " + row, x -> x.told(row, 0), Yards.ROW, Yards.ALL);
     }
+  }
+
+  private static void toldOfNoSet() {
     for (int set : new int[] {LEAST, LEAST + 1, -1, 1024, 1025, MOST}) {
-      refusedInAll("told: a set " + set, x -> x.told(1, set), Yards.RANGE);
+      check.refused("told, set " + set, x -> x.told(1, set), Yards.RANGE, Yards.ALL);
     }
     for (int set : new int[] {32, 33, 63, 64, 1023}) {
-      refused("told: a set " + set + " of 5", x -> x.told(1, set), Yards.RANGE, Yards::crowded);
+      check.refused("told, set " + set + " of 5", x -> x.told(1, set), Yards.RANGE, Yards::crowded);
     }
-    refused("told: a set 1 of none", x -> x.told(1, 1), Yards.RANGE, RemainderYard::new);
+    check.refused("told, set 1 of none", x -> x.told(1, 1), Yards.RANGE, RemainderYard::new);
   }
 
-  private static void meet() {
+  private static void openOutOfRange() {
+    for (int k : new int[] {LEAST, -1, 0, 11, MOST}) {
+      check.refused("open " + k, x -> x.open(k), Yards.RANGE, Yards.ALL);
+    }
+    check.refused("open 6 of 5", x -> x.open(6), Yards.RANGE, Yards::crowded);
+    check.refused("open 1 of none", x -> x.open(1), Yards.RANGE, RemainderYard::new);
+  }
+
+  private static void meetOutOfRange() {
     for (int dial : new int[] {LEAST, -1, 0, 10000, MOST}) {
       for (int number : new int[] {LEAST, 0, MOST}) {
-        refusedInAll("meet: out of range, " + dial, x -> x.meet(number, dial), Yards.RANGE);
-        refused("meet: out of range and eight, " + dial, x -> x.meet(number, dial), Yards.RANGE,
-            Yards::full);
+        check.refused("meet " + number + " by " + dial, x -> x.meet(number, dial), Yards.RANGE,
+            RemainderYard::new, Yards::crowded);
       }
     }
+  }
+
+  private static void meetIfThereAreEight() {
     for (int dial : new int[] {1, 2, 9999}) {
-      refused("meet: eight, " + dial, x -> x.meet(0, dial), Yards.FULL, Yards::full);
+      check.refused("meet by " + dial, x -> x.meet(0, dial), Yards.FULL, Yards::full);
     }
   }
 
-  private static void meeting() {
-    refused("meeting: there is none", x -> x.meeting(), Yards.NONE, Yards::full, () -> {
+  private static void meetingIfThereIsNone() {
+    check.refused("meeting", x -> x.meeting(), Yards.NONE, Yards::full, () -> {
       RemainderYard yard = Yards.crowded();
       yard.meet(4, 6);
-      return yard;
-    });
-  }
-
-  private static void undo() {
-    refused("undo: no call is kept", x -> x.undo(), Yards.NONE, RemainderYard::new, () -> {
-      RemainderYard yard = Yards.crowded();
-      yard.addDial(17);
-      return yard;
-    }, () -> {
-      RemainderYard yard = Yards.full();
-      yard.dropDial(3);
       return yard;
     });
   }

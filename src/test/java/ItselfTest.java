@@ -12,23 +12,12 @@ public final class ItselfTest {
   private static final Check check = new Check("ItselfTest");
 
   public static void main(String[] args) {
-    copy();
-    add();
-    subtract();
-    multiply();
-    power();
-    inverse();
-    divide();
-    divideBy();
-    determinant();
-    polynomial();
-    numbersOfThem();
-    check.end();
+    check.all(ItselfTest.class);
   }
 
-  /** By great dials with the product 9999 * 9998 * 9997 * 9995; the rows have inverses. */
+  /** By ten great dials; all rows but the last one have an inverse. */
   private static RemainderYard yard() {
-    RemainderYard yard = Check.yard(9999, 9998, 9997, 9995);
+    RemainderYard yard = Check.yard(Yards.GREAT);
     long[] numbers = {31, 9876543211L, 1000003, 999999999989L, 65537, 7919, 104729, 4567891234567L, 59,
         2147483647, 61, 0};
     for (int row = 0; row < 12; row++) {
@@ -106,7 +95,7 @@ public final class ItselfTest {
   }
 
   private static void divideBy() {
-    for (int index = 0; index < 4; index++) {
+    for (int index = 0; index < 10; index++) {
       int dial = index;
       same("divideBy dial " + index, (x, to) -> x.divideBy(to, 1, dial), 1);
       same("divideBy dial " + index, (x, to) -> x.divideBy(to, 7, dial), 7);

@@ -1,5 +1,6 @@
 import java.util.ArrayDeque;
 import java.util.LinkedHashMap;
+import java.util.List;
 import java.util.Map;
 
 /** The paragraph Keeping of the Terms, and promise 19: each sentence by itself. */
@@ -7,26 +8,7 @@ public final class KeepingTest {
   private static final Check check = new Check("KeepingTest");
 
   public static void main(String[] args) {
-    eachCallThatLetsARowBecome();
-    alsoIfItBecomesTheSame();
-    otherCallsAreNotKept();
-    atMostTwelve();
-    theOldestOneIsForgotten();
-    theRingGoesRound();
-    dialComesAllAreForgotten();
-    dialGoesAllAreForgotten();
-    refusedDialForgetsNone();
-    refusedCallIsNotKept();
-    textIsNotKept();
-    readTextDoesNotComeBack();
-    conditionsAreNotKept();
-    spareDialsAreNotKept();
-    undoIsNotKept();
-    undoTellsTheRow();
-    undoWithoutCalls();
-    undoAllOfOneRow();
-    undoWithoutDials();
-    check.end();
+    check.all(KeepingTest.class);
   }
 
   /**
@@ -118,21 +100,58 @@ public final class KeepingTest {
     }, x -> x.read(3), 3);
   }
 
-  private static void otherCallsAreNotKept() {
-    Check.Call[] calls = {x -> x.clash(10), x -> x.setSpare(1), x -> x.dials(), x -> x.dialAt(0),
-        x -> x.product(), x -> x.type('1'), x -> x.erase(), x -> x.signAt(0), x -> x.tell(1),
-        x -> x.tellSigned(1), x -> x.wheel(2, 0), x -> x.digit(2, 0), x -> x.compare(1, 2),
-        x -> x.sign(2), x -> x.isOver(1, 2, '+'), x -> x.isOver(1, 2, '*'), x -> x.isEnough(2),
-        x -> x.isTrue(2), x -> x.find(2), x -> x.fraction(1), x -> x.told(2, 5), x -> x.open(2),
-        x -> x.meet(1, 2), x -> x.apart(), x -> x.meeting(), x -> x.period(), x -> x.forget(),
+  private static void answersChangeNothing() {
+    Check.Call[] calls = {x -> x.clash(10), x -> x.clash(31), x -> x.dials(), x -> x.dialAt(0),
+        x -> x.signAt(0), x -> x.wheel(2, 0), x -> x.digit(2, 3), x -> x.compare(1, 2),
+        x -> x.compare(2, 1), x -> x.sign(1), x -> x.sign(2), x -> x.isOver(1, 2, '+'),
+        x -> x.isOver(2, 3, '*'), x -> x.isEnough(0), x -> x.isEnough(2), x -> x.isTrue(1),
+        x -> x.isTrue(2), x -> x.find(1), x -> x.find(2), x -> x.find(3), x -> x.apart(),
         x -> x.checksum(), x -> x.isSound()};
+    for (Check.Maker maker : List.<Check.Maker>of(KeepingTest::busy, Yards::crowded, Yards::full)) {
+      for (int i = 0; i < calls.length; i++) {
+        RemainderYard yard = maker.make();
+        Object answer = Check.outcome(yard, calls[i]);
+        check.same("a call that answers alone, " + i + ", throws", answer instanceof Class, false);
+        check.sameState("a call that answers alone, " + i, yard, maker.make());
+      }
+    }
+  }
+
+  /** All that there is but the text, which is another one then. */
+  private static String besideTheText(RemainderYard yard) {
+    StringBuilder state = new StringBuilder(Check.wheelsOf(yard));
+    state.append(", kept ").append(undoAll(yard)).append(", then ").append(Check.wheelsOf(yard));
+    yard.period();
+    state.append(", period ").append(Check.textOf(yard)).append(", apart ").append(yard.apart());
+    Check.outcome(yard, x -> x.meeting());
+    state.append(", meeting or period ").append(Check.textOf(yard));
+    state.append(", spare ").append(yard.setSpare(0)).append(", conditions ").append(yard.forget());
+    return state.toString();
+  }
+
+  private static void callsOfTheTextChangeItAlone() {
+    Check.Call[] calls = {x -> x.product(), x -> x.type('1'), x -> x.erase(), x -> x.tell(1),
+        x -> x.tellSigned(2), x -> x.fraction(1), x -> x.told(2, 5), x -> x.open(2), x -> x.open(4),
+        x -> x.meeting(), x -> x.period()};
+    for (Check.Maker maker : List.<Check.Maker>of(KeepingTest::busy, Yards::crowded, Yards::full)) {
+      for (int i = 0; i < calls.length; i++) {
+        RemainderYard yard = maker.make();
+        Check.outcome(yard, calls[i]);
+        check.same("a call of the text, " + i, besideTheText(yard), besideTheText(maker.make()));
+      }
+    }
+  }
+
+  /** Conditions and spare dials change, but no row, and what is kept stays. */
+  private static void conditionsAndSpareDialsKeepNothing() {
+    Check.Call[] calls = {x -> x.setSpare(1), x -> x.setSpare(4), x -> x.meet(1, 2), x -> x.forget()};
     for (int i = 0; i < calls.length; i++) {
       RemainderYard yard = busy();
       String before = Check.wheelsOf(yard);
-      Object answer = Check.outcome(yard, calls[i]);
-      check.same("a call that changes no row, " + i + ", throws", answer instanceof Class, false);
-      check.same("a call that changes no row, " + i, Check.wheelsOf(yard), before);
-      check.same("a call that changes no row, " + i + ", undo()", undoAll(yard),
+      Check.outcome(yard, calls[i]);
+      check.same("a call of conditions or spare dials, " + i, Check.wheelsOf(yard), before);
+      check.textIs("a call of conditions or spare dials, " + i, yard, "17");
+      check.same("a call of conditions or spare dials, " + i + ", undo()", undoAll(yard),
           "11 10 9 8 7 6 5 4 3 2 1");
     }
   }

@@ -3,24 +3,11 @@ import java.math.BigInteger;
 /** Promises 34 to 36 at their edges: what find() tells, and the places to which mend() turns. */
 public final class MendEdgesTest {
   private static final int[][] YARDS = {{7}, {2, 3}, {3, 2}, {2, 3, 5}, {5, 3, 2}, {4, 9, 5}, {9, 4, 5},
-      {2, 3, 5, 7}, {7, 5, 3, 2}, {3, 8, 7}, {11, 2, 3}};
+      {2, 3, 5, 7}, {7, 5, 3, 2}, {3, 8, 7}, {11, 2, 3}, {5, 11, 2, 3}, {11, 5, 2, 3}};
   private static final Check check = new Check("MendEdgesTest");
 
   public static void main(String[] args) {
-    findTrue();
-    findWithoutSpareDials();
-    findJustOne();
-    findNone();
-    findSeveral();
-    findWhereAllAreSpare();
-    findEachRow();
-    mendTellsItsPlace();
-    mendToTheLeastNumber();
-    mendEachRow();
-    mendWhatWasTurned();
-    mendGreatOnes();
-    mendOnce();
-    check.end();
+    check.all(MendEdgesTest.class);
   }
 
   private static RemainderYard yard(int number, int spare, int... dials) {
@@ -162,6 +149,23 @@ public final class MendEdgesTest {
             || yard.find(5) == -3, true);
       }
     }
+  }
+
+  private static void mendToTheLeastNumberNotPlace() {
+    // 63 by 5, 11, 2 and 3: by 11 free, 3 and 33 are below 55, at the places 3 and 0
+    RemainderYard yard = yard(63, 2, 5, 11, 2, 3);
+    check.same("mend: two places, find", yard.find(5), 1);
+    check.same("mend: 'that by which its number is the least', not the least place", yard.mend(5), 3);
+    check.numberIs("mend: 'that by which its number is the least'", yard, 5, "3");
+    // 85 by 5, 17, 2 and 3: by 17 free, 25 and 55 are below 85, at the places 8 and 4
+    yard = yard(85, 2, 5, 17, 2, 3);
+    check.same("mend: two places once more, find", yard.find(5), 1);
+    check.same("mend: 'that by which its number is the least', not the least place", yard.mend(5), 8);
+    check.numberIs("mend: 'that by which its number is the least'", yard, 5, "25");
+    // 122 by 5, 23, 2 and 3: 2, 32, 62 and 92, at the places 2, 9, 16 and 0
+    yard = yard(122, 2, 5, 23, 2, 3);
+    check.same("mend: four places", yard.mend(5), 2);
+    check.numberIs("mend: four places", yard, 5, "2");
   }
 
   private static void mendEachRow() {

@@ -11,28 +11,7 @@ public final class RowTermsTest {
   private static final Check check = new Check("RowTermsTest");
 
   public static void main(String[] args) {
-    twelveRows();
-    wheelForEachDial();
-    placesFrom0ToTheDialLess1();
-    allAtZeroAtFirst();
-    numberOfARow();
-    withoutDialsItIsZero();
-    remaindersBelowZero();
-    dialComesNumbersStay();
-    dialComesFalseNumbersStay();
-    dialComesSignedNumberDoesNot();
-    dialGoesOtherWheelsStay();
-    dialGoesAndComesAgain();
-    signedNumber();
-    signedNumberAtHalf();
-    trueRows();
-    trueRowsWhereAllAreSpare();
-    mixedDigits();
-    mixedDigitsInTheOrderOfDials();
-    mixedDigitsAtTheirEnds();
-    isNumberThen();
-    wheelsAtZero();
-    check.end();
+    check.all(RowTermsTest.class);
   }
 
   /** Each call with a row, and with it in each place where a row is asked for. */
@@ -419,6 +398,12 @@ public final class RowTermsTest {
       check.same(what + "power", yard.power(3, 1, 3), due);
       check.same(what + "divide", yard.divide(3, 1, 2), due);
       check.same(what + "polynomial", yard.polynomial(3, 1, 1, 0), due);
+      // the lines are 0 0 number, 1 0 0, 0 1 0
+      RemainderYard grid = Check.yard(2, 3, 5);
+      grid.set(4, number);
+      grid.set(5, 1);
+      grid.set(9, 1);
+      check.same(what + "determinant", grid.determinant(0, 2), due);
     }
   }
 }

@@ -7,25 +7,7 @@ public final class TextTermsTest {
   private static final Check check = new Check("TextTermsTest");
 
   public static void main(String[] args) {
-    emptyAtFirst();
-    atMost80Signs();
-    codes32To126();
-    placesOfTheText();
-    eraseTellsHowMany();
-    numberInPlaceOfWhatItWas();
-    fractionInPlaceOfWhatItWas();
-    otherCallsLeaveTheText();
-    noZeroAheadOfOthers();
-    zeroIsOneSign();
-    minusIfBelowZero();
-    noMinusIfNotBelowZero();
-    readTakesItAway();
-    readLeavesItWithAnException();
-    whatIsANumber();
-    whatIsNoNumber();
-    eachSignInANumber();
-    longestNumbers();
-    check.end();
+    check.all(TextTermsTest.class);
   }
 
   private static void emptyAtFirst() {
@@ -155,17 +137,30 @@ public final class TextTermsTest {
   }
 
   private static void noZeroAheadOfOthers() {
-    RemainderYard yard = Check.yard(Yards.GREAT);
     String[] numbers = {"1", "10", "99", "100", "999999999", "1000000000", "1000000001",
         "999999999999999999", "1000000000000000000", "1000000000000000001", "2000000000000000000",
         "10000000000000000000000000000000000000", "100000000000000000000000000000000000000",
         "100000000000000000000000000000000000009", "123000000000000000456000000000000000789"};
     for (String number : numbers) {
+      RemainderYard yard = Check.yard(Yards.GREAT);
       Yards.put(yard, 0, new BigInteger(number));
       check.tells("'no 0 ahead of others': tell " + number, yard, yard.tell(0), number);
       check.tells("'no 0 ahead of others': told " + number, yard, yard.told(0, 1023), number);
       Yards.put(yard, 0, new BigInteger(number).negate());
       check.tells("'no 0 ahead of others': tellSigned -" + number, yard, yard.tellSigned(0), "-" + number);
+    }
+  }
+
+  private static void eachCountOfDigits() {
+    BigInteger ten = BigInteger.ONE;
+    for (int digits = 1; digits <= 39; digits++) {
+      for (int more = -1; more <= 1; more++) {
+        BigInteger number = ten.add(BigInteger.valueOf(more));
+        RemainderYard yard = Check.yard(Yards.GREAT);
+        Yards.put(yard, 0, number);
+        check.tells("a number of " + digits + " digits, " + more, yard, yard.tell(0), number.toString());
+      }
+      ten = ten.multiply(BigInteger.TEN);
     }
   }
 
@@ -259,6 +254,24 @@ public final class TextTermsTest {
     for (String[] number : numbers) {
       check.same("'perhaps one + or -, and one digit or more': " + number[0], readOf(number[0]),
           number[1]);
+    }
+  }
+
+  private static void minusZeroIsItsNumber() {
+    for (String text : new String[] {"-0", "+0", "0", "-000", "-" + "0".repeat(79)}) {
+      RemainderYard yard = Check.yard(3, 5, 7);
+      yard.set(2, 23);
+      Check.type(yard, text);
+      check.same("read: 'whether that is its number then', " + text, yard.read(2), true);
+      check.rowIs("read: " + text, yard, 2, 0, 0, 0);
+      RemainderYard bare = new RemainderYard();
+      Check.type(bare, text);
+      check.same("read: 'whether that is its number then', without dials, " + text, bare.read(2), true);
+    }
+    for (String text : new String[] {"-1", "-105", "-01", "1", "105"}) {
+      RemainderYard bare = new RemainderYard();
+      Check.type(bare, text);
+      check.same("read: without dials, " + text, bare.read(2), false);
     }
   }
 

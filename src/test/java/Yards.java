@@ -14,6 +14,9 @@ final class Yards {
   static final Class<?> NO_NUMBER = NumberFormatException.class;
   static final Class<?> ARITHMETIC = ArithmeticException.class;
 
+  static final Check.Maker[] ALL = {RemainderYard::new, Yards::crowded, Yards::full};
+  static final Check.Maker[] WITH_DIALS = {Yards::crowded, Yards::full};
+
   private Yards() {
   }
 
@@ -35,6 +38,15 @@ final class Yards {
   static BigInteger number(RemainderYard yard, int row) {
     yard.tell(row);
     return new BigInteger(Check.textOf(yard));
+  }
+
+  static Check.Maker typed(Check.Maker maker, String text) {
+    return () -> {
+      RemainderYard yard = maker.make();
+      yard.erase();
+      Check.type(yard, text);
+      return yard;
+    };
   }
 
   /** The wheels of one row, joined by spaces. */
