@@ -99,14 +99,14 @@ public final class ConditionTermsTest {
   }
 
   private static void apartOfSeveralPairs() {
-    // 0 and 1 by 3; 0, 1, 0 by 4; so that 0-3, 1-2, 2-4 and 1-4 by pairs
+    // 0 and 1 by 3, and 0, 1 and 2 by 4: 0 with 3, 1 with 2, 1 with 4, and 2 with 4
     RemainderYard yard = conditions(0, 3, 0, 4, 1, 4, 1, 3, 2, 4);
     check.same("'the first two': of four pairs", yard.apart(), 3);
     check.same("'the first two': of three", conditions(0, 5, 0, 4, 1, 4, 1, 3, 2, 4).apart(), 12);
   }
 
   private static void apartTakesTheLeastOne() {
-    // 1 and 2, and 0 and 7: the least other one is with the greater first one
+    // 1 with 2, and 0 with 7: the least other one is with the greater first one
     RemainderYard yard = conditions(0, 9, 0, 2, 1, 2, 0, 5, 0, 7, 0, 11, 0, 13, 1, 9);
     check.same("'of those the one with the least number'", yard.apart(), 7);
   }
