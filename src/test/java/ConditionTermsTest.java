@@ -116,6 +116,39 @@ public final class ConditionTermsTest {
     check.same("'and with it the least other one behind it'", yard.apart(), 13);
   }
 
+  /** Four conditions with all remainders by small dials, against each two of them, one after the other. */
+  private static void apartOfAllSmallOnes() {
+    int[][] yards = {{4, 6, 9, 2}, {6, 4, 6, 3}, {2, 2, 2, 2}, {9, 3, 1, 6}};
+    for (int[] dials : yards) {
+      int all = dials[0] * dials[1] * dials[2] * dials[3];
+      for (int i = 0; i < all; i++) {
+        int[] told = new int[8];
+        int left = i;
+        for (int j = 0; j < 4; j++) {
+          told[2 * j] = left % dials[j];
+          told[2 * j + 1] = dials[j];
+          left /= dials[j];
+        }
+        check.same("apart: " + java.util.Arrays.toString(told), conditions(told).apart(), firstApart(told));
+      }
+    }
+  }
+
+  private static int firstApart(int[] told) {
+    for (int one = 0; one < told.length; one += 2) {
+      for (int other = one + 2; other < told.length; other += 2) {
+        boolean met = false;
+        for (int number = 0; number < told[one + 1] * told[other + 1]; number++) {
+          met |= number % told[one + 1] == told[one] && number % told[other + 1] == told[other];
+        }
+        if (!met) {
+          return 10 * (one / 2) + other / 2;
+        }
+      }
+    }
+    return -1;
+  }
+
   private static void apartWithoutConditions() {
     check.same("apart: '-1 if there are none', no condition", new RemainderYard().apart(), -1);
     check.same("apart: '-1 if there are none', one", conditions(3, 4).apart(), -1);

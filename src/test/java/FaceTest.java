@@ -7,9 +7,12 @@ import java.nio.file.Files;
 import java.nio.file.Path;
 import java.util.Set;
 import java.util.TreeSet;
+import java.util.regex.Matcher;
+import java.util.regex.Pattern;
 
 /** The class has just the face that the document shows, and rule 1 of the language holds. */
 public final class FaceTest {
+  private static final Path SOURCE = Path.of("src/main/java/RemainderYard.java");
   private static final Check check = new Check("FaceTest");
 
   public static void main(String[] args) throws Exception {
@@ -39,12 +42,36 @@ public final class FaceTest {
     check.same("the face", got, due);
     check.same("public and final", RemainderYard.class.getModifiers(),
         Modifier.PUBLIC | Modifier.FINAL);
+    headings(Files.readString(document), Files.readString(SOURCE));
     membersOf(RemainderYard.class, names);
     for (Class<?> inner : RemainderYard.class.getDeclaredClasses()) {
       membersOf(inner, names);
       check.same(inner + " is static", Modifier.isStatic(inner.getModifiers()), true);
     }
     check.end();
+  }
+
+  /** The calls stand under the headings that the document tells, in its order. */
+  private static void headings(String document, String source) {
+    Matcher told = Pattern.compile("Ahead of the calls (.*) the interface says: (---- .*)\\.")
+        .matcher(document);
+    int many = 0;
+    while (told.find()) {
+      many++;
+      int start = source.indexOf("  // " + told.group(2) + "\n");
+      int end = source.indexOf("  // ----", start + 1);
+      check.same("the heading is there: " + told.group(2), start >= 0 && end > start, true);
+      if (start >= 0 && end > start) {
+        StringBuilder calls = new StringBuilder();
+        Matcher call = Pattern.compile("(?m)^ {2}public \\w+ (\\w+)\\(")
+            .matcher(source.substring(start, end));
+        while (call.find()) {
+          calls.append(calls.length() == 0 ? "`" : ", `").append(call.group(1)).append('`');
+        }
+        check.same("the calls under " + told.group(2), calls.toString(), told.group(1));
+      }
+    }
+    check.same("how many headings the document tells", many, 10);
   }
 
   private static String shown(Executable executable, String start) {

@@ -66,6 +66,39 @@ public final class KeepingTest {
     });
   }
 
+  /** Where twelve are kept, each such call is one more, so that the oldest one is forgotten. */
+  private static void eachCallWhereTwelveAreKept() {
+    changes().forEach((name, call) -> {
+      String what = "'the oldest one being forgotten', by " + name;
+      RemainderYard yard = busy();
+      yard.turn(0, 0, 0);
+      Object answer = Check.outcome(yard, call);
+      check.same(what + " throws", answer instanceof Class, false);
+      check.same(what, undoAll(yard), "2 0 11 10 9 8 7 6 5 4 3 2");
+      check.same(what + ": what the forgotten one was ahead of stays", Yards.row(yard, 1), "1 1 1 1");
+    });
+  }
+
+  /** All calls but those fifteen: none is kept, whatever it answers. */
+  private static void noOtherCallIsKept() {
+    Check.Call[] calls = {x -> x.clash(9), x -> x.setSpare(1), x -> x.dials(), x -> x.dialAt(1),
+        x -> x.product(), x -> x.type('5'), x -> x.erase(), x -> x.signAt(0), x -> x.tell(2),
+        x -> x.tellSigned(2), x -> x.wheel(2, 0), x -> x.digit(2, 0), x -> x.compare(2, 3),
+        x -> x.sign(2), x -> x.isOver(2, 3, '+'), x -> x.isOver(2, 3, '*'), x -> x.isEnough(2),
+        x -> x.isTrue(2), x -> x.find(2), x -> x.fraction(2), x -> x.told(2, 15), x -> x.open(1),
+        x -> x.meet(1, 5), x -> x.apart(), x -> x.meeting(), x -> x.period(), x -> x.forget(),
+        x -> x.checksum(), x -> x.isSound()};
+    for (int i = 0; i < calls.length; i++) {
+      RemainderYard yard = busy();
+      yard.turn(0, 0, 0);
+      String rows = Check.wheelsOf(yard);
+      Check.outcome(yard, calls[i]);
+      check.same("'each call that lets a row become': no other, rows of " + i, Check.wheelsOf(yard), rows);
+      check.same("'each call that lets a row become': no other, " + i, undoAll(yard),
+          "0 11 10 9 8 7 6 5 4 3 2 1");
+    }
+  }
+
   private static void alsoIfItBecomesTheSame() {
     Map<String, Check.Call> calls = new LinkedHashMap<>();
     calls.put("set", x -> x.set(3, 100));
@@ -114,6 +147,19 @@ public final class KeepingTest {
         check.same("a call that answers alone, " + i + ", throws", answer instanceof Class, false);
         check.sameState("a call that answers alone, " + i, yard, maker.make());
       }
+    }
+  }
+
+  private static void answersLeaveAnEmptyText() {
+    Check.Call[] calls = {x -> x.clash(10), x -> x.dials(), x -> x.dialAt(0), x -> x.wheel(2, 0),
+        x -> x.digit(2, 3), x -> x.compare(1, 2), x -> x.sign(2), x -> x.isOver(1, 2, '+'),
+        x -> x.isEnough(0), x -> x.isTrue(2), x -> x.find(2), x -> x.apart(), x -> x.checksum(),
+        x -> x.isSound()};
+    for (int i = 0; i < calls.length; i++) {
+      RemainderYard yard = busy();
+      yard.erase();
+      Check.outcome(yard, calls[i]);
+      check.textIs("a call that answers alone, with an empty text, " + i, yard, "");
     }
   }
 

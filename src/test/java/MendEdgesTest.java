@@ -69,13 +69,13 @@ public final class MendEdgesTest {
   }
 
   /** The least number below the main product that differs by this wheel alone, or -1. */
-  private static int least(int number, int wheel, int main, int[] dials) {
+  static int least(int number, int wheel, int main, int[] dials) {
     int product = Yards.product(dials).intValue();
     int others = product / dials[wheel];
     return number % others < main ? number % others : -1;
   }
 
-  private static int found(int number, int main, int[] dials) {
+  static int found(int number, int main, int[] dials) {
     int found = -2;
     for (int i = 0; i < dials.length && number >= main; i++) {
       if (least(number, i, main, dials) >= 0) {

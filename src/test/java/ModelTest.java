@@ -7,8 +7,11 @@ import java.util.List;
 
 /** Long runs of calls, on the program and on the model, whose answers and states are compared. */
 public final class ModelTest {
-  private static final int RUNS = 260;
+  private static final int RUNS = 700;
+  /** What an object answers behind so many calls is free, so that each run has as many in all. */
   private static final int CALLS = 512;
+  private static final int UNDOS = 14;
+  private static final int CALLS_AT_THE_END = 2 * UNDOS + 2;
   private static final int[][] POOLS = {
     {2, 3, 5, 7, 11, 13},
     {2, 3, 4, 5, 6, 7, 8, 9, 10, 11, 12, 13, 25, 49},
@@ -30,6 +33,8 @@ public final class ModelTest {
   private final int[] answered = new int[100];
   private long seed;
   private int[] pool;
+  private int left;
+  private boolean differs;
 
   public static void main(String[] args) throws Exception {
     new ModelTest().runAll();
@@ -62,11 +67,12 @@ public final class ModelTest {
   private void runOne(int run) throws Exception {
     RemainderYard yard = new RemainderYard();
     ModelYard model = new ModelYard();
-    int dialsAtFirst = draw(11);
-    for (int call = 0; call < CALLS; call++) {
+    int dialsAtFirst = 2 * draw(11);
+    left = CALLS;
+    for (int call = 0; left > CALLS_AT_THE_END; call++) {
       int which = draw(methods.size());
       Method method = methods.get(which);
-      if (call < 2 * dialsAtFirst) {
+      if (call < dialsAtFirst) {
         method = RemainderYard.class.getMethod("addDial", int.class);
       } else if (method.getName().matches("dropDial|erase|forget") && draw(4) != 0) {
         continue;
@@ -74,44 +80,78 @@ public final class ModelTest {
         typeNumber(yard, model);
       }
       Object[] args = argumentsOf(method, model);
-      Object got = outcome(method, yard, args);
-      Method same = ModelYard.class.getMethod(method.getName(), method.getParameterTypes());
-      Object due = outcome(same, model, args);
+      String what = "run " + run + ", call " + (CALLS - left);
+      Object due = compared(what, method, yard, model, args);
       if (!(due instanceof Class)) {
         answered[which]++;
       }
-      String what = "run " + run + ", call " + call + ", " + method.getName() + Arrays.toString(args);
-      check.same(what, got, due);
-      check.same(what + ", checksum", yard.checksum(), model.checksum());
-      if (!got.equals(due) || yard.checksum() != model.checksum()) {
+      if (differs || left > CALLS_AT_THE_END && draw(3) != 0 && !sameChecksum(what, yard, model)) {
         return;
       }
+      if (draw(40) == 0) {
+        sameText(what, yard, model);
+      }
     }
-    check.same("run " + run + ", text", Check.textOf(yard), model.text());
-    check.same("run " + run + ", sound", yard.isSound(), true);
     undoAll(run, yard, model);
+    while (left > 1) {
+      left--;
+      check.same("run " + run + ", sound", yard.isSound(), true);
+    }
+    sameChecksum("run " + run + ", the last call", yard, model);
+  }
+
+  /** One call of both; answers what is due. */
+  private Object compared(String what, Method method, RemainderYard yard, ModelYard model,
+      Object... args) throws Exception {
+    left--;
+    Object got = outcome(method, yard, args);
+    Method same = ModelYard.class.getMethod(method.getName(), method.getParameterTypes());
+    Object due = outcome(same, model, args);
+    check.same(what + ", " + method.getName() + Arrays.toString(args), got, due);
+    differs = !got.equals(due);
+    return due;
+  }
+
+  private boolean sameChecksum(String what, RemainderYard yard, ModelYard model) {
+    left--;
+    long got = yard.checksum();
+    check.same(what + ", checksum behind it", got, model.checksum());
+    return got == model.checksum();
+  }
+
+  /** If there are calls enough for it. */
+  private void sameText(String what, RemainderYard yard, ModelYard model) {
+    if (left < CALLS_AT_THE_END + model.text().length() + 1) {
+      return;
+    }
+    // one call behind the last sign tells that it is the last
+    left -= Math.min(model.text().length() + 1, 80);
+    check.textIs(what, yard, model.text());
   }
 
   private void undoAll(int run, RemainderYard yard, ModelYard model) throws Exception {
     Method undo = RemainderYard.class.getMethod("undo");
-    Method same = ModelYard.class.getMethod("undo");
-    for (int i = 0; i < 14; i++) {
-      Object got = outcome(undo, yard, new Object[0]);
-      Object due = outcome(same, model, new Object[0]);
-      check.same("run " + run + ", undo " + i, got, due);
-      check.same("run " + run + ", state behind it", yard.checksum(), model.checksum());
+    for (int i = 0; i < UNDOS; i++) {
+      String what = "run " + run + ", undo " + i;
+      compared(what, undo, yard, model);
+      sameChecksum(what, yard, model);
     }
   }
 
+  /** If there are calls enough for it. */
   private void typeNumber(RemainderYard yard, ModelYard model) {
-    yard.erase();
-    model.erase();
     String lead = new String[] {"", "", "+", "-", "00", "-0", " ", "+-"}[draw(8)];
     int digits = new int[] {0, 1, 2, 3, 6, 12, 24, 38, 76}[draw(9)];
     StringBuilder text = new StringBuilder(lead);
     for (int i = 0; i < digits; i++) {
       text.append((char) ('0' + draw(10)));
     }
+    if (left < CALLS_AT_THE_END + text.length() + 2) {
+      return;
+    }
+    left -= text.length() + 1;
+    yard.erase();
+    model.erase();
     for (int i = 0; i < text.length(); i++) {
       yard.type(text.charAt(i));
       model.type(text.charAt(i));

@@ -2,11 +2,26 @@ import java.lang.management.ManagementFactory;
 
 /** All calls of one run live in one room: no call makes anything that it does not throw. */
 public final class RoomTest {
-  private static final int CALLS = 512;
+  // 31 calls make a yard and 20 rounds of 24 follow, so that none has more than 512
+  private static final int YARDS = 26;
+  private static final int ROUNDS = 20;
   private static final long MOST_BYTES = 20000;
+  private static final com.sun.management.ThreadMXBean BEAN =
+      (com.sun.management.ThreadMXBean) ManagementFactory.getThreadMXBean();
   private static final Check check = new Check("RoomTest");
 
   public static void main(String[] args) {
+    roundsOfOne();
+    long made = 0;
+    for (int i = 0; i < YARDS; i++) {
+      made += roundsOfOne();
+    }
+    check.same(YARDS * ROUNDS + " rounds make " + made + " bytes, few", made < MOST_BYTES, true);
+    check.end();
+  }
+
+  /** Answers how many bytes the calls make, without those of the yard itself. */
+  private static long roundsOfOne() {
     RemainderYard yard = Check.yard(9941, 9949, 9967, 9973, 9989, 9991, 9995, 9997, 9998, 9999);
     yard.setSpare(2);
     for (int row = 0; row < 12; row++) {
@@ -15,20 +30,15 @@ public final class RoomTest {
     for (int i = 0; i < 8; i++) {
       yard.meet(i, 9999 - i);
     }
-    round(yard);
     long before = bytes();
-    for (int call = 0; call < CALLS; call++) {
+    for (int i = 0; i < ROUNDS; i++) {
       round(yard);
     }
-    long made = bytes() - before;
-    check.same("512 rounds make " + made + " bytes, few", made < MOST_BYTES, true);
-    check.end();
+    return bytes() - before;
   }
 
   private static long bytes() {
-    com.sun.management.ThreadMXBean bean =
-        (com.sun.management.ThreadMXBean) ManagementFactory.getThreadMXBean();
-    return bean.getThreadAllocatedBytes(Thread.currentThread().getId());
+    return BEAN.getThreadAllocatedBytes(Thread.currentThread().getId());
   }
 
   private static void round(RemainderYard yard) {

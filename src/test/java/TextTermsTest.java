@@ -122,11 +122,13 @@ public final class TextTermsTest {
         x -> x.isOver(0, 1, '*'), x -> x.isEnough(0), x -> x.isTrue(0), x -> x.find(0),
         x -> x.setFraction(0, 1, 2), x -> x.meet(1, 2), x -> x.apart(), x -> x.forget(),
         x -> x.checksum(), x -> x.isSound()};
-    for (int i = 0; i < calls.length; i++) {
-      RemainderYard yard = told("what stays");
-      Object got = Check.outcome(yard, calls[i]);
-      check.same("a call that tells no number, " + i, got instanceof Class, false);
-      check.textIs("a call that tells no number, " + i, yard, "what stays");
+    for (String text : new String[] {"what stays", "7", "-104", "/".repeat(80)}) {
+      for (int i = 0; i < calls.length; i++) {
+        RemainderYard yard = told(text);
+        Object got = Check.outcome(yard, calls[i]);
+        check.same("a call that tells no number, " + i, got instanceof Class, false);
+        check.textIs("a call that tells no number, " + i, yard, text);
+      }
     }
     RemainderYard yard = Check.yard(3, 5, 7);
     yard.setSpare(1);
