@@ -98,6 +98,30 @@ public final class ConditionTermsTest {
     check.tells("and conditions change no row", yard, yard.tell(0), "5");
   }
 
+  /** No row, no dial, no spare one and nothing that is kept, also by the first of such calls. */
+  private static void conditionsChangeNothingElse() {
+    Check.Call[] calls = {x -> x.meet(4, 9), x -> x.apart(), x -> x.meeting(), x -> x.period(),
+        x -> x.forget()};
+    for (int i = 0; i < calls.length; i++) {
+      RemainderYard yard = Check.yard(3, 5, 7);
+      yard.setSpare(2);
+      for (int row = 0; row < 12; row++) {
+        yard.set(row, -1);
+      }
+      Check.outcome(yard, calls[i]);
+      String what = "conditions and nothing else, " + i;
+      for (int row = 0; row < 12; row++) {
+        check.same(what + ", row " + row, Yards.row(yard, row), "2 4 6");
+      }
+      check.same(what + ", the dials", yard.dialAt(0) + yard.dialAt(1) + yard.dialAt(2), 15);
+      for (int row = 11; row >= 0; row--) {
+        check.same(what + ", undo()", Check.outcome(yard, x -> x.undo()), row);
+      }
+      check.same(what + ", no more", Check.outcome(yard, x -> x.undo()), Yards.NONE);
+      check.same(what + ", spare ones", yard.setSpare(0), 2);
+    }
+  }
+
   private static void apartOfSeveralPairs() {
     // 0 and 1 by 3, and 0, 1 and 2 by 4: 0 with 3, 1 with 2, 1 with 4, and 2 with 4
     RemainderYard yard = conditions(0, 3, 0, 4, 1, 4, 1, 3, 2, 4);

@@ -8,7 +8,7 @@ import java.util.List;
 public final class ExceptionsTest {
   private static final int LEAST = Integer.MIN_VALUE;
   private static final int MOST = Integer.MAX_VALUE;
-  private static final int[] NO_DIALS = {LEAST, -1, 10, MOST};
+  private static final int[] NO_DIALS = {LEAST, -1, 10, 256, 65536, 1 << 24, MOST};
   private static final Check check = new Check("ExceptionsTest");
 
   public static void main(String[] args) {
@@ -16,7 +16,7 @@ public final class ExceptionsTest {
   }
 
   private static void addDialOutOfRange() {
-    for (int dial : new int[] {LEAST, -1, 0, 1, 10000, MOST}) {
+    for (int dial : new int[] {LEAST, -1, 0, 1, 10000, 65536 + 17, (1 << 24) + 31, LEAST + 31, MOST}) {
       check.refused("addDial " + dial, x -> x.addDial(dial), Yards.RANGE, Yards.ALL);
     }
   }
@@ -34,7 +34,8 @@ public final class ExceptionsTest {
   }
 
   private static void clashOutOfRange() {
-    for (int dial : new int[] {LEAST, -1, 0, 1, 10000, 15015, MOST}) {
+    for (int dial : new int[] {LEAST, -1, 0, 1, 10000, 15015, 65536 + 17, (1 << 24) + 31, LEAST + 31,
+        MOST}) {
       check.refused("clash " + dial, x -> x.clash(dial), Yards.RANGE, Yards.ALL);
     }
   }
@@ -56,7 +57,7 @@ public final class ExceptionsTest {
   }
 
   private static void setSpareBelowZeroOrAbove() {
-    for (int many : new int[] {LEAST, -1, 11, MOST}) {
+    for (int many : new int[] {LEAST, -1, 11, 256, 65536, 1 << 24, MOST}) {
       check.refused("setSpare " + many, x -> x.setSpare(many), Yards.RANGE, Yards.ALL);
     }
     check.refused("setSpare 6 of 5", x -> x.setSpare(6), Yards.RANGE, Yards::crowded);
@@ -77,7 +78,7 @@ public final class ExceptionsTest {
   }
 
   private static void signAtNoPlace() {
-    for (int place : new int[] {LEAST, -1, 80, MOST}) {
+    for (int place : new int[] {LEAST, -1, 80, 256, 65536, 1 << 24, MOST}) {
       check.refused("signAt " + place, x -> x.signAt(place), Yards.RANGE, Yards.ALL);
     }
     check.refused("signAt 4 of 4", x -> x.signAt(4), Yards.RANGE, Yards::crowded);
@@ -153,7 +154,7 @@ public final class ExceptionsTest {
   }
 
   private static void turnToNoPlace() {
-    for (int place : new int[] {LEAST, -1, 13, MOST}) {
+    for (int place : new int[] {LEAST, -1, 13, 256, 65536, (1 << 24) + 1, MOST}) {
       check.refused("turn to " + place, x -> x.turn(1, 0, place), Yards.RANGE, Yards.WITH_DIALS);
     }
     check.refused("turn to 3 by 3", x -> x.turn(1, 0, 3), Yards.RANGE, Yards::crowded);
@@ -251,7 +252,7 @@ public final class ExceptionsTest {
   }
 
   private static void polynomialOfSoMany() {
-    for (int many : new int[] {LEAST, -1, 0, 7, 12, MOST}) {
+    for (int many : new int[] {LEAST, -1, 0, 7, 12, 257, 65537, (1 << 24) + 2, LEAST + 2, MOST}) {
       check.refused("polynomial of " + many, x -> x.polynomial(1, 2, many, 2), Yards.RANGE, Yards.ALL);
     }
   }
@@ -359,7 +360,7 @@ public final class ExceptionsTest {
   }
 
   private static void toldOfNoSet() {
-    for (int set : new int[] {LEAST, LEAST + 1, -1, 1024, 1025, MOST}) {
+    for (int set : new int[] {LEAST, LEAST + 1, -1, 1024, 1025, 65537, (1 << 24) + 1, MOST}) {
       check.refused("told, set " + set, x -> x.told(1, set), Yards.RANGE, Yards.ALL);
     }
     for (int set : new int[] {32, 33, 63, 64, 1023}) {
@@ -369,7 +370,7 @@ public final class ExceptionsTest {
   }
 
   private static void openOutOfRange() {
-    for (int k : new int[] {LEAST, -1, 0, 11, MOST}) {
+    for (int k : new int[] {LEAST, LEAST + 1, -1, 0, 11, 257, 65537, (1 << 24) + 1, MOST}) {
       check.refused("open " + k, x -> x.open(k), Yards.RANGE, Yards.ALL);
     }
     check.refused("open 6 of 5", x -> x.open(6), Yards.RANGE, Yards::crowded);
@@ -377,7 +378,7 @@ public final class ExceptionsTest {
   }
 
   private static void meetOutOfRange() {
-    for (int dial : new int[] {LEAST, -1, 0, 10000, MOST}) {
+    for (int dial : new int[] {LEAST, LEAST + 7, -1, 0, 10000, 65543, (1 << 24) + 7, MOST}) {
       for (int number : new int[] {LEAST, 0, MOST}) {
         check.refused("meet " + number + " by " + dial, x -> x.meet(number, dial), Yards.RANGE,
             RemainderYard::new, Yards::crowded);

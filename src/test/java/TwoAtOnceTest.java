@@ -6,7 +6,7 @@
 public final class TwoAtOnceTest {
   private static final int LEAST = Integer.MIN_VALUE;
   private static final int MOST = Integer.MAX_VALUE;
-  private static final int[] NO_DIALS = {LEAST, -1, 10, MOST};
+  private static final int[] NO_DIALS = {LEAST, -1, 10, 65536, MOST};
   private static final Check check = new Check("TwoAtOnceTest");
 
   public static void main(String[] args) {

@@ -4,7 +4,7 @@ import java.math.BigInteger;
 final class Yards {
   static final int[] PRIMES = {2, 3, 5, 7, 11, 13, 17, 19, 23, 29};
   static final int[] GREAT = {9999, 9998, 9997, 9995, 9991, 9989, 9973, 9967, 9949, 9941};
-  static final int[] NO_ROWS = {-1, 12, 13, Integer.MAX_VALUE, Integer.MIN_VALUE};
+  static final int[] NO_ROWS = {-1, 12, 13, 257, 65537, 1 << 24, Integer.MAX_VALUE, Integer.MIN_VALUE};
 
   static final Class<?> RANGE = IllegalArgumentException.class;
   static final Class<?> CLASH = UnsupportedOperationException.class;
