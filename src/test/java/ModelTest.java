@@ -54,7 +54,7 @@ public final class ModelTest {
       runOne(run);
     }
     for (int i = 0; i < methods.size(); i++) {
-      check.same(methods.get(i).getName() + " has answered often", answered[i] > 100, true);
+      check.same(methods.get(i).getName() + " has answered often, " + answered[i], answered[i] > 100, true);
     }
     check.end();
   }
@@ -70,20 +70,21 @@ public final class ModelTest {
     int dialsAtFirst = 2 * draw(11);
     left = CALLS;
     for (int call = 0; left > CALLS_AT_THE_END; call++) {
-      int which = draw(methods.size());
-      Method method = methods.get(which);
+      Method method = methods.get(draw(methods.size()));
       if (call < dialsAtFirst) {
-        method = RemainderYard.class.getMethod("addDial", int.class);
+        method = method("addDial");
       } else if (method.getName().matches("dropDial|erase|forget") && draw(4) != 0) {
         continue;
       } else if (draw(12) == 0) {
         typeNumber(yard, model);
+      } else if (draw(30) == 0 && mendOne("run " + run + ", call " + (CALLS - left), yard, model)) {
+        return;
       }
       Object[] args = argumentsOf(method, model);
       String what = "run " + run + ", call " + (CALLS - left);
       Object due = compared(what, method, yard, model, args);
       if (!(due instanceof Class)) {
-        answered[which]++;
+        answered[methods.indexOf(method)]++;
       }
       if (differs || left > CALLS_AT_THE_END && draw(3) != 0 && !sameChecksum(what, yard, model)) {
         return;
@@ -119,6 +120,27 @@ public final class ModelTest {
     return got == model.checksum();
   }
 
+  /** Turns one wheel of a small number and mends it, if there are calls enough for it. */
+  private boolean mendOne(String what, RemainderYard yard, ModelYard model) throws Exception {
+    if (left < CALLS_AT_THE_END + 6 || model.dials() < 3) {
+      return false;
+    }
+    int row = draw(12);
+    int index = draw(model.dials());
+    compared(what, method("setSpare"), yard, model, 1 + draw(2));
+    compared(what, method("set"), yard, model, row, (long) draw(40));
+    compared(what, method("turn"), yard, model, row, index, draw(model.dialAt(index)));
+    compared(what, method("find"), yard, model, row);
+    if (!(compared(what, method("mend"), yard, model, row) instanceof Class)) {
+      answered[methods.indexOf(method("mend"))]++;
+    }
+    return differs;
+  }
+
+  private Method method(String name) {
+    return methods.stream().filter(method -> method.getName().equals(name)).findFirst().orElseThrow();
+  }
+
   /** If there are calls enough for it. */
   private void sameText(String what, RemainderYard yard, ModelYard model) {
     if (left < CALLS_AT_THE_END + model.text().length() + 1) {
@@ -130,10 +152,9 @@ public final class ModelTest {
   }
 
   private void undoAll(int run, RemainderYard yard, ModelYard model) throws Exception {
-    Method undo = RemainderYard.class.getMethod("undo");
     for (int i = 0; i < UNDOS; i++) {
       String what = "run " + run + ", undo " + i;
-      compared(what, undo, yard, model);
+      compared(what, method("undo"), yard, model);
       sameChecksum(what, yard, model);
     }
   }
