@@ -6,6 +6,7 @@ import java.util.ArrayList;
 import java.util.Comparator;
 import java.util.List;
 import java.util.stream.Stream;
+import javax.tools.JavaCompiler;
 import javax.tools.ToolProvider;
 
 /**
@@ -54,9 +55,7 @@ public final class SoundTest {
     try {
       Path source = folder.resolve("RemainderYard.java");
       Files.writeString(source, program.replace(from, to));
-      int built = ToolProvider.getSystemJavaCompiler().run(null, null, null, "-d", folder.toString(),
-          source.toString());
-      check.same(what + ": the copy compiles", built, 0);
+      check.same(what + ": the copy compiles", built(folder, source), 0);
       try (URLClassLoader loader = new URLClassLoader(new java.net.URL[] {folder.toUri().toURL()},
           ClassLoader.getPlatformClassLoader())) {
         Class<?> broken = loader.loadClass("RemainderYard");
@@ -67,6 +66,15 @@ public final class SoundTest {
     } finally {
       delete(folder);
     }
+  }
+
+  private static int built(Path folder, Path source) throws Exception {
+    JavaCompiler compiler = ToolProvider.getSystemJavaCompiler();
+    if (compiler != null) {
+      return compiler.run(null, null, null, "-d", folder.toString(), source.toString());
+    }
+    return new ProcessBuilder("javac", "-d", folder.toString(), source.toString()).inheritIO().start()
+        .waitFor();
   }
 
   private static Object isSound(Class<?> program, Use use) throws Exception {
