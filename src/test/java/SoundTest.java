@@ -184,6 +184,18 @@ public final class SoundTest {
     soundWhereNotBroken(what, uses);
   }
 
+  private static void fractionByEachDial() throws Exception {
+    List<Use> uses = List.of(yard -> {
+      dials(yard, 3, 5, 7);
+      call(yard, "setFraction", 4, -1L, 2L);
+    });
+    // more by the product of the other two, so that its remainder by one dial alone is wrong
+    for (int more : new int[] {35, 21, 15}) {
+      seen("'has it with its remainders', by " + 105 / more, "    Natural above() {\n",
+          "    Natural above() {\n      rest.scale(1, " + more + ");\n", uses);
+    }
+  }
+
   private static Use conditions(int... told) {
     return yard -> {
       for (int i = 0; i < told.length; i += 2) {
@@ -207,6 +219,15 @@ public final class SoundTest {
     seen(what, "int shared = Residues.commonDivisor(moduli[i], moduli[j]);", "int shared = moduli[i];",
         uses);
     soundWhereNotBroken(what, uses);
+  }
+
+  private static void numberThatMeetsEachOfThem() throws Exception {
+    List<Use> uses = List.of(conditions(3, 5, 1, 4, 2, 3));
+    // more by the product of the other two, so that one condition alone is not met
+    for (int more : new int[] {12, 15, 20}) {
+      seen("'all conditions can be met', that by " + 60 / more, "        steps.scale(part, 0);\n      }\n",
+          "        steps.scale(part, 0);\n      }\n      into.scale(1, " + more + ");\n", uses);
+    }
   }
 
   private static void numberThatMeetsThem() throws Exception {
