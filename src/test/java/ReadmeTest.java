@@ -2,6 +2,7 @@ import java.lang.reflect.InvocationTargetException;
 import java.lang.reflect.Method;
 import java.nio.file.Files;
 import java.nio.file.Path;
+import java.util.Arrays;
 import java.util.List;
 import java.util.regex.Matcher;
 import java.util.regex.Pattern;
@@ -9,13 +10,14 @@ import java.util.regex.Pattern;
 /**
  * Each call that README.md shows answers what README.md says: all lines of its Java are run, in their
  * order. A line is a new yard, or one call with what is due behind it: its answer, or what it throws,
- * and perhaps words of which those on the text, a row and its wheels are looked at too.
+ * and perhaps words, of which those on the text, the product, a row and its wheels are looked at too.
  */
 public final class ReadmeTest {
   private static final Pattern CALL =
-      Pattern.compile("(?:\\w+ \\w+ = )?yard\\.(\\w+)\\((.*)\\); +// ([^:]+)(?:: (.*))?");
+      Pattern.compile("(?:(\\w+) \\w+ = )?yard\\.(\\w+)\\((.*)\\); +// ([^:]+)(?:: (.*))?");
   private static final Pattern TEXT = Pattern.compile("the text is (\"(.*?)\"|empty)");
   private static final Pattern ROW = Pattern.compile("row (\\d+) is (?:again )?(\\d+)(?!\\d|/)");
+  private static final Pattern PRODUCT = Pattern.compile("the product is (\\d+)");
   private static final Pattern WHEELS = Pattern.compile("row (\\d+) .*?wheels at ([\\d, ]*\\d)");
   private static final Check check = new Check("ReadmeTest");
 
@@ -52,24 +54,28 @@ public final class ReadmeTest {
     check.same("'" + line + "' is a call with its answer", understood, true);
     if (understood) {
       calls++;
-      String got = answer(call.group(1), call.group(2));
-      check.same("'" + line + "'", got, call.group(3).trim());
-      words(line, call.group(4) == null ? "" : call.group(4));
+      Method method = method(call.group(2));
+      String type = call.group(1) == null ? method.getReturnType().getName() : call.group(1);
+      check.same("'" + line + "', its type", type, method.getReturnType().getName());
+      check.same("'" + line + "'", answer(method, call.group(3)), call.group(4).trim());
+      words(line, call.group(5) == null ? "" : call.group(5));
     }
   }
 
-  private static String answer(String name, String args) throws Exception {
-    String[] given = args.isEmpty() ? new String[0] : args.split(", (?=[^']|'[^']')");
-    for (Method method : RemainderYard.class.getMethods()) {
-      if (method.getName().equals(name) && method.getParameterCount() == given.length) {
-        Object[] values = new Object[given.length];
-        for (int i = 0; i < given.length; i++) {
-          values[i] = value(given[i], method.getParameterTypes()[i]);
-        }
-        return outcome(method, values);
-      }
+  private static Method method(String name) {
+    return Arrays.stream(RemainderYard.class.getMethods())
+        .filter(method -> method.getName().equals(name)).findFirst().orElseThrow();
+  }
+
+  private static String answer(Method method, String args) throws Exception {
+    String[] given = args.isEmpty() ? new String[0] : args.split(", ");
+    Class<?>[] types = method.getParameterTypes();
+    check.same(method.getName() + "(" + args + "), how many are given", given.length, types.length);
+    Object[] values = new Object[types.length];
+    for (int i = 0; i < values.length; i++) {
+      values[i] = value(given[i], types[i]);
     }
-    return "no such call";
+    return outcome(method, values);
   }
 
   private static Object value(String given, Class<?> type) {
@@ -99,6 +105,14 @@ public final class ReadmeTest {
     Matcher row = ROW.matcher(words);
     while (row.find()) {
       check.numberIs("'" + line + "'", yard, Integer.parseInt(row.group(1)), row.group(2));
+    }
+    Matcher product = PRODUCT.matcher(words);
+    while (product.find()) {
+      int[] dials = new int[yard.dials()];
+      for (int i = 0; i < dials.length; i++) {
+        dials[i] = yard.dialAt(i);
+      }
+      check.same("'" + line + "', the product", Yards.product(dials).toString(), product.group(1));
     }
     Matcher wheels = WHEELS.matcher(words);
     while (wheels.find()) {
